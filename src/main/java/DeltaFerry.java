@@ -10,6 +10,7 @@ public final class DeltaFerry {
 
     private static final int OLD = 0, NEW = 1, DELTA = 2, RESULT = 3;
     private static final int FILE_ROOM = 300, DELTA_ROOM = 700, TABLE_ROOM = 1536;
+    private static final int TABLE_SIZES = 512, TABLE_MODES = 1024;
     private static final int LEAST_BLOCK = 4, MOST_BLOCK = 64;
     private static final int LEAST_WINDOW = 16, MOST_WINDOW = 256;
     private static final int MOST_CHAIN = 16;
@@ -911,72 +912,6 @@ public final class DeltaFerry {
         }
     }
 
-    /** The codes' first and second types, sizes and modes, in the document's order. */
-    private static final class CodeTable {
-        private static final int SIZES = 512, MODES = 1024;
-
-        static int typeOf(Row table, int code, int which) {
-            return table.cells[256 * which + code];
-        }
-
-        static int sizeOf(Row table, int code, int which) {
-            return table.cells[SIZES + 256 * which + code];
-        }
-
-        static int modeOf(Row table, int code, int which) {
-            return table.cells[MODES + 256 * which + code];
-        }
-
-        static boolean isTable(Row table) {
-            if (table.count != TABLE_ROOM) {
-                return false;
-            }
-            for (int i = 0; i < SIZES; i++) {
-                if (table.cells[i] > COPY) {
-                    return false;
-                }
-            }
-            return true;
-        }
-
-        static Row standard() {
-            Row table = new Row(TABLE_ROOM);
-            table.count = TABLE_ROOM;
-            name(table, 0, 0, RUN, 0, 0);
-            for (int size = 0; size <= 17; size++) {
-                name(table, 1 + size, 0, ADD, size, 0);
-            }
-            for (int mode = 0; mode <= 8; mode++) {
-                name(table, 19 + 16 * mode, 0, COPY, 0, mode);
-                for (int size = 4; size <= 18; size++) {
-                    name(table, 19 + 16 * mode + size - 3, 0, COPY, size, mode);
-                }
-                name(table, 247 + mode, 0, COPY, 4, mode);
-                name(table, 247 + mode, 1, ADD, 1, 0);
-                fillAddCopies(table, mode);
-            }
-            return table;
-        }
-
-        private static void fillAddCopies(Row table, int mode) {
-            int sizes = mode <= 5 ? 3 : 1;
-            int first = mode <= 5 ? 163 + 12 * mode : 235 + 4 * (mode - 6);
-            for (int add = 1; add <= 4; add++) {
-                for (int more = 0; more < sizes; more++) {
-                    int code = first + sizes * (add - 1) + more;
-                    name(table, code, 0, ADD, add, 0);
-                    name(table, code, 1, COPY, 4 + more, mode);
-                }
-            }
-        }
-
-        private static void name(Row table, int code, int which, int type, int size, int mode) {
-            table.cells[256 * which + code] = type;
-            table.cells[SIZES + 256 * which + code] = size;
-            table.cells[MODES + 256 * which + code] = mode;
-        }
-    }
-
     /** Reads one window of a delta, and makes its bytes behind those of the windows before it. */
     private static final class WindowReader {
         private final Cursor body = new Cursor();
@@ -1062,12 +997,13 @@ public final class DeltaFerry {
             for (int i = 0; i < DELTA_ROOM && codes.left() > 0; i++) {
                 int code = codes.next();
                 for (int which = 0; which < 2; which++) {
-                    int type = CodeTable.typeOf(table, code, which);
-                    int n = type == 0 ? 0 : readSize(CodeTable.sizeOf(table, code, which));
+                    int entry = 256 * which + code;
+                    int type = table.cells[entry];
+                    int n = type == 0 ? 0 : readSize(table.cells[TABLE_SIZES + entry]);
                     if (n < 0
                         || type == ADD && !makeAdd(n)
                         || type == RUN && !makeRun(n)
-                        || type == COPY && !makeCopy(n, CodeTable.modeOf(table, code, which))) {
+                        || type == COPY && !makeCopy(n, table.cells[TABLE_MODES + entry])) {
                         return BROKEN;
                     }
                 }
@@ -1116,9 +1052,11 @@ public final class DeltaFerry {
 
     /** Reads a delta, and before it the delta of a table when there is one. */
     private static final class Reader {
+        private static final int SECOND_ENTRIES = 256;
+
         final Row madeResult = new Row(FILE_ROOM);
         private final Row madeTable = new Row(TABLE_ROOM);
-        private final Row standardTable = CodeTable.standard();
+        private final Row standardTable = makeStandardTable();
         private final Cursor delta = new Cursor();
         private final Cursor tableDelta = new Cursor();
         private final WindowReader windowReader = new WindowReader();
@@ -1172,7 +1110,7 @@ public final class DeltaFerry {
 
         int leaveTable(int answer) {
             toldTable = madeTable;
-            return answer == FINE && CodeTable.isTable(madeTable) ? FINE : TABLE;
+            return answer == FINE && isTable(madeTable) ? FINE : TABLE;
         }
 
         void enterResult(Row file) {
@@ -1200,6 +1138,52 @@ public final class DeltaFerry {
         private static int readBeginning(Cursor from) {
             boolean known = from.next() == 214 && from.next() == 195 && from.next() == 196 && from.next() == 0;
             return known ? from.next() : NONE;
+        }
+
+        private static boolean isTable(Row row) {
+            if (row.count != TABLE_ROOM) {
+                return false;
+            }
+            for (int i = 0; i < TABLE_SIZES; i++) {
+                if (row.cells[i] > COPY) {
+                    return false;
+                }
+            }
+            return true;
+        }
+
+        private static Row makeStandardTable() {
+            Row row = new Row(TABLE_ROOM);
+            row.count = TABLE_ROOM;
+            enter(row, 0, RUN, 0, 0);
+            for (int size = 0; size <= 17; size++) {
+                enter(row, 1 + size, ADD, size, 0);
+            }
+            for (int mode = 0; mode <= 8; mode++) {
+                enter(row, 19 + 16 * mode, COPY, 0, mode);
+                for (int size = 4; size <= 18; size++) {
+                    enter(row, 19 + 16 * mode + size - 3, COPY, size, mode);
+                }
+                enterAddCopies(row, mode);
+                enter(row, 247 + mode, COPY, 4, mode);
+                enter(row, SECOND_ENTRIES + 247 + mode, ADD, 1, 0);
+            }
+            return row;
+        }
+
+        private static void enterAddCopies(Row row, int mode) {
+            int copies = mode <= 5 ? 3 : 1;
+            int first = mode <= 5 ? 163 + 12 * mode : 235 + 4 * (mode - 6);
+            for (int i = 0; i < 4 * copies; i++) {
+                enter(row, first + i, ADD, 1 + i / copies, 0);
+                enter(row, SECOND_ENTRIES + first + i, COPY, 4 + i % copies, mode);
+            }
+        }
+
+        private static void enter(Row row, int entry, int type, int size, int mode) {
+            row.cells[entry] = type;
+            row.cells[TABLE_SIZES + entry] = size;
+            row.cells[TABLE_MODES + entry] = mode;
         }
     }
 }

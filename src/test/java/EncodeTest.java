@@ -1,0 +1,160 @@
+/** Promise 14: encode. */
+public final class EncodeTest {
+    public static void main(String[] args) {
+        nothing();
+        additions();
+        runs();
+        modes();
+        pairs();
+        sizes();
+        windows();
+        allThatIsWrittenIsRead();
+        Checks.finish("EncodeTest");
+    }
+
+    private static void dueDelta(String what, DeltaFerry x, boolean checked, int... behind) {
+        int[] all = Checks.joined(Checks.row(214, 195, 196, 0, 0), behind);
+        Checks.due(what, x.encode(checked), all.length);
+        Checks.dueFile(what, x, 2, all);
+    }
+
+    private static DeltaFerry differed(String old, String fresh) {
+        DeltaFerry x = new DeltaFerry();
+        Checks.fill(x, 0, old);
+        Checks.fill(x, 1, fresh);
+        x.differ(16, 256);
+        return x;
+    }
+
+    private static void nothing() {
+        DeltaFerry x = new DeltaFerry();
+        Checks.fill(x, 2, 1, 2, 3);
+        Checks.due("no plan", x.encode(true), DeltaFerry.NONE);
+        Checks.dueFile("no plan leaves DELTA", x, 2, 1, 2, 3);
+        Checks.fill(x, 0, "abcd");
+        x.differ(1, 16);
+        dueDelta("no window", x, true);
+    }
+
+    private static void additions() {
+        DeltaFerry x = differed("", "abc");
+        dueDelta("an addition", x, false, 0, 9, 3, 0, 3, 1, 0, 97, 98, 99, 4);
+        dueDelta("a checked one", x, true, 4, 13, 3, 0, 3, 1, 0, 2, 77, 1, 39, 97, 98, 99, 4);
+        x = differed("xy", "abc");
+        dueDelta("with a source", x, false, 1, 2, 0, 9, 3, 0, 3, 1, 0, 97, 98, 99, 4);
+        dueDelta("with a source, checked", x, true, 5, 2, 0, 13, 3, 0, 3, 1, 0, 2, 77, 1, 39, 97, 98, 99, 4);
+        x.sign(4);
+        x.scan(16);
+        dueDelta("OLD of less than a block is no source", x, false, 0, 9, 3, 0, 3, 1, 0, 97, 98, 99, 4);
+    }
+
+    private static void runs() {
+        DeltaFerry x = differed("", "zzzzz");
+        dueDelta("a run", x, false, 0, 8, 5, 0, 1, 2, 0, 122, 0, 5);
+        Checks.fill(x, 1, Checks.joined(Checks.row(9), Checks.times(200, 8)));
+        x.differ(1, 256);
+        dueDelta("a long run", x, false, 0, 12, 129, 73, 0, 2, 4, 0, 9, 8, 2, 0, 129, 72);
+    }
+
+    private static int[] block(int[] old, int from) {
+        return java.util.Arrays.copyOfRange(old, from, from + 4);
+    }
+
+    private static void modes() {
+        DeltaFerry x = new DeltaFerry();
+        int[] old = Checks.mixed(300, 9);
+        Checks.fill(x, 0, old);
+        Checks.fill(x, 1, Checks.joined(
+            block(old, 12), block(old, 20), block(old, 12), block(old, 260), block(old, 260), block(old, 0)));
+        x.sign(4);
+        Checks.due("scan", x.scan(64), 6);
+        dueDelta("modes 0, 2, 6, 1, 7, 6", x, false, 1, 130, 44, 0, 17, 24, 0, 0, 6, 6,
+            20, 52, 116, 36, 132, 116, 12, 8, 12, 52, 4, 0);
+        // The first row's turn comes round: its first address is the fifth one then, which is nearest.
+        Checks.fill(x, 1, Checks.joined(
+            block(old, 100), block(old, 60), block(old, 40), block(old, 20), block(old, 104), block(old, 128)));
+        Checks.due("scan", x.scan(64), 6);
+        dueDelta("turns", x, false, 1, 130, 44, 0, 17, 24, 0, 0, 6, 6, 20, 20, 20, 20, 52, 52, 100, 60, 40, 20, 4, 24);
+        // Modes with the same number: the least one.
+        Checks.fill(x, 0, Checks.mixed(8, 9));
+        Checks.fill(x, 1, java.util.Arrays.copyOfRange(Checks.mixed(8, 9), 4, 8));
+        x.sign(4);
+        x.scan(64);
+        dueDelta("4 is told by mode 0", x, false, 1, 8, 0, 7, 4, 0, 0, 1, 1, 20, 4);
+    }
+
+    private static void pairs() {
+        dueDelta("ADD 2, COPY 4 with mode 6; ADD 1", differed("abcdefgh", "xyabcd!"), false,
+            1, 8, 0, 11, 7, 0, 3, 2, 1, 120, 121, 33, 236, 2, 0);
+        dueDelta("ADD 2, COPY 5 with mode 6 have no code", differed("abcdefgh", "xyabcde!"), false,
+            1, 8, 0, 12, 8, 0, 3, 3, 1, 120, 121, 33, 3, 117, 2, 0);
+        dueDelta("COPY 4 with mode 6, ADD 1", differed("abcdefgh", "abcd!"), false,
+            1, 8, 0, 8, 5, 0, 1, 1, 1, 33, 253, 0);
+        dueDelta("COPY 4, ADD 2 have no code", differed("abcdefgh", "abcd!?"), false,
+            1, 8, 0, 10, 6, 0, 2, 2, 1, 33, 63, 116, 3, 0);
+        dueDelta("RUN 4, COPY 6 with mode 0", differed("-abcdefgh", "....abcdef"), false,
+            1, 9, 0, 10, 10, 0, 1, 3, 1, 46, 0, 4, 22, 1);
+        dueDelta("ADD 3, COPY 6 with mode 0", differed("-abcdefgh", ".,;abcdef"), false,
+            1, 9, 0, 10, 9, 0, 3, 1, 1, 46, 44, 59, 171, 1);
+        dueDelta("ADD 3, COPY 7 have no code", differed("-abcdefgh", ".,;abcdefg"), false,
+            1, 9, 0, 11, 10, 0, 3, 2, 1, 46, 44, 59, 4, 23, 1);
+        dueDelta("ADD 5, COPY 4 have no code", differed("-abcdefgh", ".,;:!abcd"), false,
+            1, 9, 0, 13, 9, 0, 5, 2, 1, 46, 44, 59, 58, 33, 6, 20, 1);
+        dueDelta("ADD 1, COPY 4 with mode 1", differed("-----------------abcd", "!abcd"), false,
+            1, 21, 0, 8, 5, 0, 1, 1, 1, 33, 175, 5);
+    }
+
+    private static void sizes() {
+        int[] old = Checks.mixed(60, 5);
+        DeltaFerry x = new DeltaFerry();
+        Checks.fill(x, 0, old);
+        int[][] copies = {{18, 34}, {19, 19}, {20, 19}};
+        for (int[] pair : copies) {
+            int n = pair[0];
+            Checks.fill(x, 1, java.util.Arrays.copyOfRange(old, 3, 3 + n));
+            x.differ(1, 64);
+            int[] code = n <= 18 ? Checks.row(pair[1]) : Checks.row(pair[1], n);
+            dueDelta("COPY " + n, x, false, Checks.joined(
+                Checks.row(1, 60, 0, 6 + code.length, n, 0, 0, code.length, 1), code, Checks.row(3)));
+        }
+        for (int n = 17; n <= 18; n++) {
+            int[] bytes = Checks.mixed(n, 6);
+            Checks.fill(x, 1, bytes);
+            x.differ(1, 64);
+            int[] code = n <= 17 ? Checks.row(18) : Checks.row(1, n);
+            dueDelta("ADD " + n, x, false, Checks.joined(
+                Checks.row(1, 60, 0, 5 + n + code.length, n, 0, n, code.length, 0), bytes, code));
+        }
+        int[] many = Checks.mixed(130, 7);
+        Checks.fill(x, 1, many);
+        x.differ(1, 256);
+        dueDelta("numbers of two bytes", x, false, Checks.joined(
+            Checks.row(1, 60, 0, 129, 12, 129, 2, 0, 129, 2, 3, 0), many, Checks.row(1, 129, 2)));
+    }
+
+    private static void windows() {
+        DeltaFerry x = new DeltaFerry();
+        int[] old = Checks.mixed(20, 8);
+        Checks.fill(x, 0, old);
+        Checks.fill(x, 1, old);
+        x.sign(10);
+        Checks.due("scan", x.scan(17), 2);
+        dueDelta("a copy of 3 in a window of its own", x, false,
+            1, 20, 0, 7, 17, 0, 0, 1, 1, 129, 0, 1, 20, 0, 8, 3, 0, 0, 2, 1, 35, 3, 3);
+    }
+
+    private static void allThatIsWrittenIsRead() {
+        for (int seed = 0; seed < 40; seed++) {
+            DeltaFerry x = new DeltaFerry();
+            int[] old = Checks.mixed(100 + 5 * seed, seed);
+            int[] fresh = Checks.joined(java.util.Arrays.copyOfRange(old, seed, 90), Checks.times(seed, 3),
+                Checks.mixed(20, seed + 50), java.util.Arrays.copyOfRange(old, 10, 60));
+            Checks.fill(x, 0, old);
+            Checks.fill(x, 1, fresh);
+            x.differ(1 + seed % 16, 16 + 6 * seed);
+            x.encode(seed % 2 == 0);
+            Checks.due("decode", x.decode(), fresh.length);
+            Checks.dueFile("decode", x, 3, fresh);
+        }
+    }
+}
