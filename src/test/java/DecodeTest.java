@@ -25,6 +25,7 @@ public final class DecodeTest {
         resultStays();
         everyCode();
         tables();
+        tableModes();
         tableRows();
         tablesRefused();
         tableSizes();
@@ -115,6 +116,7 @@ public final class DecodeTest {
             if (kind > 7 || kind % 4 == 3) {
                 refused("kind " + kind, "abcdefgh",
                     delta(window(Checks.row(kind, 0, 0), 0, EMPTY, EMPTY, EMPTY)), BROKEN);
+                refused("kind " + kind, "abcdefgh", delta(window(Checks.row(kind), 0, EMPTY, EMPTY, EMPTY)), BROKEN);
             }
         }
         DeltaFerry x = read("an older RESULT", "abcd", delta(window(Checks.row(1, 4, 0), 4, EMPTY, copy4, Checks.row(0))), 4);
@@ -390,6 +392,26 @@ public final class DecodeTest {
         Checks.dueFile("the next delta", x, 3, 'c', 'd', 'e', 'f');
     }
 
+    /** A table whose types are THE TABLE's modes, so that all modes that are not named are seen to be 0. */
+    private static void tableModes() {
+        List<Integer> standard = Model.tableBytes(Model.codes());
+        int[][] ranges = {{1024, 19}, {1024 + 163, 84}, {1280, 163}, {1280 + 247, 9}};
+        for (int[] range : ranges) {
+            for (int i = range[0]; i < range[0] + range[1]; i++) {
+                Checks.due("the model's mode " + i, standard.get(i), 0);
+            }
+            int[] table = delta(window(Checks.row(1, 140, 0, 0), 1536, EMPTY,
+                Checks.joined(Checks.row(19), number(range[1]), Checks.row(19), number(256 - range[1]),
+                    Checks.row(19), number(1280)),
+                Checks.joined(number(range[0]), number(range[1]), number(256))));
+            int[] codes = new int[Math.min(range[1], 163)];
+            for (int i = 0; i < codes.length; i++) {
+                codes[i] = i;
+            }
+            made("modes that are not named", "", withTable(4, 3, table, window(Checks.row(0), 0, EMPTY, codes, EMPTY)), "");
+        }
+    }
+
     private static void tableRows() {
         String old = "abcdefghijklmnop";
         int[] source = Checks.row(1, 16, 0);
@@ -411,6 +433,14 @@ public final class DecodeTest {
             window(source, 4, EMPTY, Checks.row(20), Checks.row(2))), BROKEN);
         made("a mode that there is not, not used", old, withTable(8, 4, tableDelta(1024 + 2, 255, 1024 + 20, 255),
             window(Checks.row(0), 1, Checks.row('q'), Checks.row(2), EMPTY)), "q");
+        int[] tail = Checks.mixed(300, 3);
+        DeltaFerry x = new DeltaFerry();
+        Checks.fill(x, 0, tail);
+        Checks.fill(x, 2, withTable(4, 1, tableDelta(),
+            window(Checks.row(1, 130, 44, 0), 8, EMPTY, Checks.row(20, 116), Checks.row(130, 10, 10))));
+        Checks.due("SAME 1: remainders by 256", x.decode(), 8);
+        int[] four = java.util.Arrays.copyOfRange(tail, 266, 270);
+        Checks.dueFile("SAME 1: remainders by 256", x, 3, Checks.joined(four, four));
         made("a table's delta has 4 and 3", old, withTable(0, 0, delta(window(Checks.row(1, 140, 0, 0), 1536, EMPTY,
             Checks.row(19, 132, 0, 51, 136, 0), Checks.row(0, 132, 0))), window(source, 4, EMPTY, Checks.row(20), Checks.row(1))), "bcde");
         made("a table's delta of two windows, the second from the first", old, withTable(4, 3,
@@ -425,6 +455,7 @@ public final class DecodeTest {
         made("NEAR 8, SAME 4", old, withTable(8, 4, tableDelta(), copy), "cdef");
         refused("NEAR 9", old, withTable(9, 3, tableDelta(), copy), TABLE);
         refused("SAME 5", old, withTable(4, 5, tableDelta(), copy), TABLE);
+        refused("a first type 4", old, withTable(4, 3, tableDelta(0, 4), copy), TABLE);
         refused("a first type 4", old, withTable(4, 3, tableDelta(255, 4), copy), TABLE);
         refused("a second type 4", old, withTable(4, 3, tableDelta(511, 4), copy), TABLE);
         made("a first size 4", old, withTable(4, 3, tableDelta(512, 4), copy), "cdef");

@@ -43,6 +43,7 @@ public final class EncodeTest {
         x = differed("xy", "abc");
         dueDelta("with a source", x, false, 1, 2, 0, 9, 3, 0, 3, 1, 0, 97, 98, 99, 4);
         dueDelta("with a source, checked", x, true, 5, 2, 0, 13, 3, 0, 3, 1, 0, 2, 77, 1, 39, 97, 98, 99, 4);
+        dueDelta("a source of one byte", differed("x", "abc"), false, 1, 1, 0, 9, 3, 0, 3, 1, 0, 97, 98, 99, 4);
         x.sign(4);
         x.scan(16);
         dueDelta("OLD of less than a block is no source", x, false, 0, 9, 3, 0, 3, 1, 0, 97, 98, 99, 4);
@@ -75,6 +76,17 @@ public final class EncodeTest {
             block(old, 100), block(old, 60), block(old, 40), block(old, 20), block(old, 104), block(old, 128)));
         Checks.due("scan", x.scan(64), 6);
         dueDelta("turns", x, false, 1, 130, 44, 0, 17, 24, 0, 0, 6, 6, 20, 20, 20, 20, 52, 52, 100, 60, 40, 20, 4, 24);
+        // In the second row, a byte of 128 or more is one byte.
+        Checks.fill(x, 1, Checks.joined(block(old, 152), block(old, 152)));
+        Checks.due("scan", x.scan(64), 2);
+        dueDelta("a byte", x, false, 1, 130, 44, 0, 10, 8, 0, 0, 2, 3, 36, 116, 129, 20, 152);
+        // The last of the first row is nearest; behind bytes there is a code for both.
+        Checks.fill(x, 1, Checks.joined(block(old, 12), block(old, 40), block(old, 60), block(old, 80),
+            Checks.row(1, 2, 3, 4), block(old, 84), Checks.row(5, 6, 7, 8), block(old, 260), Checks.row(9, 9),
+            block(old, 260), Checks.row(1, 2, 3, 4), block(old, 260)));
+        Checks.due("scan", x.scan(64), 12);
+        dueDelta("modes 5 and 7", x, false, 1, 130, 44, 0, 35, 46, 0, 14, 8, 8, 1, 2, 3, 4, 5, 6, 7, 8, 9, 9, 1, 2, 3, 4,
+            20, 52, 68, 84, 232, 184, 240, 242, 12, 28, 20, 20, 4, 68, 4, 4);
         // Modes with the same number: the least one.
         Checks.fill(x, 0, Checks.mixed(8, 9));
         Checks.fill(x, 1, java.util.Arrays.copyOfRange(Checks.mixed(8, 9), 4, 8));
@@ -141,6 +153,16 @@ public final class EncodeTest {
         Checks.due("scan", x.scan(17), 2);
         dueDelta("a copy of 3 in a window of its own", x, false,
             1, 20, 0, 7, 17, 0, 0, 1, 1, 129, 0, 1, 20, 0, 8, 3, 0, 0, 2, 1, 35, 3, 3);
+        Checks.fill(x, 0, "abcd");
+        Checks.fill(x, 1, "efghijklmnopqrs!abcd?");
+        Checks.due("differ", x.differ(1, 16), 3);
+        dueDelta("no code for two windows", x, false, Checks.joined(
+            Checks.row(1, 4, 0, 22, 16, 0, 16, 1, 0), Checks.bytesOf("efghijklmnopqrs!"), Checks.row(17),
+            Checks.row(1, 4, 0, 8, 5, 0, 1, 1, 1, '?', 253, 0)));
+        Checks.fill(x, 1, "aaaabbbbccccdd!!abcd?");
+        Checks.due("differ", x.differ(1, 16), 6);
+        dueDelta("no code for two windows", x, false, 1, 4, 0, 19, 16, 0, 7, 7, 0, 'a', 'b', 'c', 'd', 'd', '!', '!',
+            0, 4, 0, 4, 0, 4, 5, 1, 4, 0, 8, 5, 0, 1, 1, 1, '?', 253, 0);
     }
 
     private static void allThatIsWrittenIsRead() {

@@ -197,6 +197,17 @@ public final class PlanTest {
         Checks.duePlan("a chain of 3", x, copy(6, 8, 0), add(1, 0));
         x.differ(4, 16);
         Checks.duePlan("a chain of 4", x, copy(7, 0, 0));
+        Checks.fill(x, 0, "abcd-abcX-abXd-aXcd-Xbcd-");
+        Checks.fill(x, 1, "abcd");
+        x.differ(1, 16);
+        Checks.duePlan("four bytes that are not the same do not count", x, copy(4, 0, 0));
+        // In a run that has begun before, the address right before is a candidate, too.
+        Checks.fill(x, 0, "xyzwa-aaaab-");
+        Checks.fill(x, 1, "xyzwaaaaab");
+        x.differ(1, 16);
+        Checks.duePlan("the address before", x, copy(5, 0, 0), run(4, 0), add(1, 0));
+        x.differ(2, 16);
+        Checks.duePlan("and one more", x, copy(5, 0, 0), copy(5, 6, 0));
     }
 
     private static void differBackwards() {

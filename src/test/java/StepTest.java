@@ -104,6 +104,15 @@ public final class StepTest {
         Checks.dueFile("RESULT stays as it is", x, 3, 'a');
         Checks.due("first again", x.step(), 3);
         x.step();
+        Checks.fill(x, 2, 214, 195, 196, 0, 0);
+        Checks.due("a DELTA of nothing", x.step(), DeltaFerry.OTHER);
+        Checks.dueFile("RESULT stays as it is", x, 3);
+        x.step();
+        x.step();
+        Checks.fill(x, 2, 214, 195, 196, 0, 0, 0, 7, 1, 0, 1, 1, 0, 'a', 2);
+        Checks.due("another DELTA", x.step(), DeltaFerry.OTHER);
+        x.step();
+        x.step();
         x.clear(2);
         Checks.due("no DELTA", x.step(), DeltaFerry.BROKEN);
         Checks.dueFile("RESULT stays", x, 3, 'a');
