@@ -84,6 +84,13 @@ public final class PlanTest {
         Checks.fill(x, 1, "abc");
         x.scan(16);
         Checks.duePlan("less than a block", x, add(3, 0));
+        // What stood behind NEW's end before is not NEW.
+        Checks.fill(x, 1, "abcdefgh");
+        Checks.fill(x, 1, "abcdef");
+        x.scan(16);
+        Checks.duePlan("NEW as it is", x, copy(4, 0, 0), add(2, 0));
+        x.differ(1, 16);
+        Checks.duePlan("NEW as it is", x, copy(6, 0, 0));
         // Of other bytes with the same weak sum, the digest knows that they are not the block.
         Checks.fill(x, 0, 10, 10, 10, 10);
         Checks.fill(x, 1, 11, 8, 11, 10);
