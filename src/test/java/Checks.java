@@ -1,12 +1,17 @@
+import java.util.ArrayList;
 import java.util.List;
 
-/** Counts answers that are not as due, and helps to fill files. */
-final class Checks {
+/**
+ * Counts answers that are not as due, and helps to fill files. An object is used for at most 512 calls, in tests
+ * too: what later calls answer is free.
+ */
+abstract class Checks {
+    static final int NONE = -1, BROKEN = -2, SECOND = -3, LARGE = -4, TABLE = -5, CHECK = -6, OTHER = -7;
+    static final int ADD = 1, RUN = 2, COPY = 3;
+    static final int MIN = Integer.MIN_VALUE, MAX = Integer.MAX_VALUE;
+    private static final int FEW = 60;
     private static int wrong = 0;
     private static int made = 0;
-
-    private Checks() {
-    }
 
     static void due(String what, long got, long want) {
         made++;
@@ -100,12 +105,63 @@ final class Checks {
         return bytes;
     }
 
-    static void dueFile(String what, DeltaFerry ferry, int file, int... want) {
-        due(what + ": size", ferry.size(file), want.length);
-        for (int i = 0; i < want.length; i++) {
-            due(what + ": byte " + i, ferry.at(file, i), want[i]);
+    static int[] part(int[] bytes, int from, int n) {
+        return java.util.Arrays.copyOfRange(bytes, from, from + n);
+    }
+
+    static List<Integer> listOf(int... bytes) {
+        List<Integer> row = new ArrayList<>();
+        for (int b : bytes) {
+            row.add(b);
         }
-        due(what + ": behind the last byte", ferry.at(file, want.length), DeltaFerry.NONE);
+        return row;
+    }
+
+    static long check(int... bytes) {
+        return Model.check(listOf(bytes));
+    }
+
+    static long digest(int half, int... bytes) {
+        return Model.half(listOf(bytes), half);
+    }
+
+    /** Looks at each byte of a short file; of a long one at its ends and its digest, for calls are counted. */
+    static void dueFile(String what, DeltaFerry ferry, int file, int... want) {
+        int n = want.length;
+        due(what + ": size", ferry.size(file), n);
+        for (int i = 0; i < n; i++) {
+            if (n <= FEW || i == 0 || i == n - 1) {
+                due(what + ": byte " + i, ferry.at(file, i), want[i]);
+            }
+        }
+        if (n > FEW) {
+            due(what + ": first half of the digest", ferry.digest(file, 0), digest(0, want));
+            due(what + ": last half of the digest", ferry.digest(file, 1), digest(1, want));
+        }
+        due(what + ": behind the last byte", ferry.at(file, n), NONE);
+    }
+
+    static int[] add(int n, int window) {
+        return row(ADD, n, NONE, window);
+    }
+
+    static int[] run(int n, int window) {
+        return row(RUN, n, NONE, window);
+    }
+
+    static int[] copy(int n, int address, int window) {
+        return row(COPY, n, address, window);
+    }
+
+    static DeltaFerry with(int[] old, int[] fresh) {
+        DeltaFerry x = new DeltaFerry();
+        fill(x, 0, old);
+        fill(x, 1, fresh);
+        return x;
+    }
+
+    static DeltaFerry with(String old, String fresh) {
+        return with(bytesOf(old), bytesOf(fresh));
     }
 
     /** The plan, each row being type, size, address and window. */
@@ -115,6 +171,6 @@ final class Checks {
                 due(what + ": instruction " + i + ", " + k, ferry.instruction(i, k), want[i][k]);
             }
         }
-        due(what + ": behind the last instruction", ferry.instruction(want.length, 0), DeltaFerry.NONE);
+        due(what + ": behind the last instruction", ferry.instruction(want.length, 0), NONE);
     }
 }

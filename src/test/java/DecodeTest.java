@@ -2,12 +2,7 @@ import java.util.ArrayList;
 import java.util.List;
 
 /** Promise 15: decode. */
-public final class DecodeTest {
-    private static final int BROKEN = DeltaFerry.BROKEN, SECOND = DeltaFerry.SECOND, LARGE = DeltaFerry.LARGE;
-    private static final int TABLE = DeltaFerry.TABLE, CHECK = DeltaFerry.CHECK;
-    private static final int[] HEAD = {214, 195, 196, 0, 0};
-    private static final int[] EMPTY = {};
-
+public final class DecodeTest extends Deltas {
     public static void main(String[] args) {
         beginnings();
         additionsAndRuns();
@@ -29,40 +24,7 @@ public final class DecodeTest {
         tableRows();
         tablesRefused();
         tableSizes();
-        Checks.finish("DecodeTest");
-    }
-
-    private static int[] number(int value) {
-        return Checks.bytesOf(Model.number(value));
-    }
-
-    /** A window: the bytes before its length, its size, and its three parts. */
-    private static int[] window(int[] kind, int size, int[] data, int[] codes, int[] addresses) {
-        int[] body = Checks.joined(number(size), Checks.row(0), number(data.length), number(codes.length),
-            number(addresses.length), data, codes, addresses);
-        return Checks.joined(kind, number(body.length), body);
-    }
-
-    private static int[] delta(int[]... windows) {
-        return Checks.joined(HEAD, Checks.joined(windows));
-    }
-
-    private static DeltaFerry read(String what, String old, int[] delta, int answer) {
-        DeltaFerry x = new DeltaFerry();
-        Checks.fill(x, 0, old);
-        Checks.fill(x, 2, delta);
-        Checks.due(what, x.decode(), answer);
-        Checks.due(what + " leaves OLD", x.size(0), old.length());
-        Checks.due(what + " leaves DELTA", x.size(2), delta.length);
-        return x;
-    }
-
-    private static void made(String what, String old, int[] delta, String result) {
-        Checks.dueFile(what, read(what, old, delta, result.length()), 3, Checks.bytesOf(result));
-    }
-
-    private static void refused(String what, String old, int[] delta, int answer) {
-        Checks.dueFile(what, read(what, old, delta, answer), 3);
+        finish("DecodeTest");
     }
 
     private static void beginnings() {
@@ -84,185 +46,185 @@ public final class DecodeTest {
     }
 
     private static void additionsAndRuns() {
-        int[] none = Checks.row(0);
-        made("ADD 3", "", delta(window(none, 3, Checks.bytesOf("abc"), Checks.row(4), EMPTY)), "abc");
-        made("ADD 3, size told", "", delta(window(none, 3, Checks.bytesOf("abc"), Checks.row(1, 3), EMPTY)), "abc");
-        made("RUN 5", "", delta(window(none, 5, Checks.row('z'), Checks.row(0, 5), EMPTY)), "zzzzz");
+        int[] none = row(0);
+        made("ADD 3", "", delta(window(none, 3, bytesOf("abc"), row(4), EMPTY)), "abc");
+        made("ADD 3, size told", "", delta(window(none, 3, bytesOf("abc"), row(1, 3), EMPTY)), "abc");
+        made("RUN 5", "", delta(window(none, 5, row('z'), row(0, 5), EMPTY)), "zzzzz");
         made("RUN 2, ADD 1, RUN 1", "",
-            delta(window(none, 4, Checks.bytesOf("zab"), Checks.row(0, 2, 2, 0, 1), EMPTY)), "zzab");
-        made("two windows", "", delta(window(none, 1, Checks.row('a'), Checks.row(2), EMPTY),
-            window(none, 2, Checks.bytesOf("bc"), Checks.row(3), EMPTY)), "abc");
+            delta(window(none, 4, bytesOf("zab"), row(0, 2, 2, 0, 1), EMPTY)), "zzab");
+        made("two windows", "", delta(window(none, 1, row('a'), row(2), EMPTY),
+            window(none, 2, bytesOf("bc"), row(3), EMPTY)), "abc");
         made("windows of nothing", "", delta(window(none, 0, EMPTY, EMPTY, EMPTY),
-            window(Checks.row(1, 0, 0), 0, EMPTY, EMPTY, EMPTY), window(Checks.row(2, 0, 0), 0, EMPTY, EMPTY, EMPTY)), "");
+            window(row(1, 0, 0), 0, EMPTY, EMPTY, EMPTY), window(row(2, 0, 0), 0, EMPTY, EMPTY, EMPTY)), "");
     }
 
     private static void sources() {
-        int[] copy4 = Checks.row(20);
-        made("OLD", "abcdefgh", delta(window(Checks.row(1, 8, 0), 4, EMPTY, copy4, Checks.row(2))), "cdef");
-        made("of OLD, from a place", "abcdefgh", delta(window(Checks.row(1, 5, 3), 4, EMPTY, copy4, Checks.row(1))), "efgh");
-        refused("OLD has 8", "abcdefgh", delta(window(Checks.row(1, 9, 0), 4, EMPTY, copy4, Checks.row(2))), BROKEN);
-        refused("OLD has 8", "abcdefgh", delta(window(Checks.row(1, 5, 4), 4, EMPTY, copy4, Checks.row(0))), BROKEN);
-        refused("OLD has 8", "abcdefgh", delta(window(Checks.row(1, 0, 9), 0, EMPTY, EMPTY, EMPTY)), BROKEN);
-        made("nothing at OLD's end", "abcdefgh", delta(window(Checks.row(1, 0, 8), 0, EMPTY, EMPTY, EMPTY)), "");
+        int[] copy4 = row(20);
+        made("OLD", "abcdefgh", delta(window(row(1, 8, 0), 4, EMPTY, copy4, row(2))), "cdef");
+        made("of OLD, from a place", "abcdefgh", delta(window(row(1, 5, 3), 4, EMPTY, copy4, row(1))), "efgh");
+        refused("OLD has 8", "abcdefgh", delta(window(row(1, 9, 0), 4, EMPTY, copy4, row(2))), BROKEN);
+        refused("OLD has 8", "abcdefgh", delta(window(row(1, 5, 4), 4, EMPTY, copy4, row(0))), BROKEN);
+        refused("OLD has 8", "abcdefgh", delta(window(row(1, 0, 9), 0, EMPTY, EMPTY, EMPTY)), BROKEN);
+        made("nothing at OLD's end", "abcdefgh", delta(window(row(1, 0, 8), 0, EMPTY, EMPTY, EMPTY)), "");
         refused("a great source", "abcdefgh",
-            delta(window(Checks.row(1, 255, 255, 255, 127, 255, 255, 255, 127), 0, EMPTY, EMPTY, EMPTY)), BROKEN);
-        int[] first = window(Checks.row(1, 8, 0), 6, Checks.bytesOf("xy"), Checks.row(3, 20), Checks.row(4));
+            delta(window(row(1, 255, 255, 255, 127, 255, 255, 255, 127), 0, EMPTY, EMPTY, EMPTY)), BROKEN);
+        int[] first = window(row(1, 8, 0), 6, bytesOf("xy"), row(3, 20), row(4));
         made("of the RESULT", "abcdefgh",
-            delta(first, window(Checks.row(2, 4, 1), 5, EMPTY, Checks.row(21), Checks.row(0))), "xyefghyefgy");
+            delta(first, window(row(2, 4, 1), 5, EMPTY, row(21), row(0))), "xyefghyefgy");
         refused("the RESULT has 6", "abcdefgh",
-            delta(first, window(Checks.row(2, 6, 1), 4, EMPTY, copy4, Checks.row(0))), BROKEN);
-        refused("no RESULT yet", "abcdefgh", delta(window(Checks.row(2, 1, 0), 4, EMPTY, copy4, Checks.row(0))), BROKEN);
+            delta(first, window(row(2, 6, 1), 4, EMPTY, copy4, row(0))), BROKEN);
+        refused("no RESULT yet", "abcdefgh", delta(window(row(2, 1, 0), 4, EMPTY, copy4, row(0))), BROKEN);
         for (int kind = 0; kind < 256; kind++) {
             if (kind > 7 || kind % 4 == 3) {
                 refused("kind " + kind, "abcdefgh",
-                    delta(window(Checks.row(kind, 0, 0), 0, EMPTY, EMPTY, EMPTY)), BROKEN);
-                refused("kind " + kind, "abcdefgh", delta(window(Checks.row(kind), 0, EMPTY, EMPTY, EMPTY)), BROKEN);
+                    delta(window(row(kind, 0, 0), 0, EMPTY, EMPTY, EMPTY)), BROKEN);
+                refused("kind " + kind, "abcdefgh", delta(window(row(kind), 0, EMPTY, EMPTY, EMPTY)), BROKEN);
             }
         }
-        DeltaFerry x = read("an older RESULT", "abcd", delta(window(Checks.row(1, 4, 0), 4, EMPTY, copy4, Checks.row(0))), 4);
-        Checks.fill(x, 2, delta(window(Checks.row(2, 4, 0), 4, EMPTY, copy4, Checks.row(0))));
-        Checks.due("an older RESULT is no source", x.decode(), BROKEN);
+        DeltaFerry x = read("an older RESULT", "abcd", delta(window(row(1, 4, 0), 4, EMPTY, copy4, row(0))), 4);
+        fill(x, 2, delta(window(row(2, 4, 0), 4, EMPTY, copy4, row(0))));
+        due("an older RESULT is no source", x.decode(), BROKEN);
     }
 
     private static void copies() {
-        made("into what it makes", "", delta(window(Checks.row(0), 9, Checks.bytesOf("ab"),
-            Checks.row(3, 19, 7), Checks.row(0))), "ababababa");
-        made("over the source's end", "xyz", delta(window(Checks.row(1, 3, 0), 8, Checks.bytesOf("ab"),
-            Checks.row(3, 22), Checks.row(1))), "abyzabyz");
-        made("from the source's end on", "xyz", delta(window(Checks.row(1, 3, 0), 6, Checks.bytesOf("ab"),
-            Checks.row(3, 20), Checks.row(3))), "ababab");
+        made("into what it makes", "", delta(window(row(0), 9, bytesOf("ab"),
+            row(3, 19, 7), row(0))), "ababababa");
+        made("over the source's end", "xyz", delta(window(row(1, 3, 0), 8, bytesOf("ab"),
+            row(3, 22), row(1))), "abyzabyz");
+        made("from the source's end on", "xyz", delta(window(row(1, 3, 0), 6, bytesOf("ab"),
+            row(3, 20), row(3))), "ababab");
     }
 
     private static void modes() {
         String old = "abcdefghijklmnopqrstuvwxyz";
-        int[] source = Checks.row(1, 26, 0);
-        made("mode 1", old, delta(window(source, 4, EMPTY, Checks.row(36), Checks.row(26))), "abcd");
+        int[] source = row(1, 26, 0);
+        made("mode 1", old, delta(window(source, 4, EMPTY, row(36), row(26))), "abcd");
         made("mode 1, behind bytes", old,
-            delta(window(source, 6, Checks.bytesOf("01"), Checks.row(3, 36), Checks.row(6))), "01wxyz");
-        made("modes 2 .. 5", old, delta(window(source, 16, EMPTY, Checks.row(52, 68, 84, 100), Checks.row(1, 2, 3, 4))),
+            delta(window(source, 6, bytesOf("01"), row(3, 36), row(6))), "01wxyz");
+        made("modes 2 .. 5", old, delta(window(source, 16, EMPTY, row(52, 68, 84, 100), row(1, 2, 3, 4))),
             "bcdecdefdefgefgh");
         made("modes 2 .. 5, told before", old, delta(window(source, 32, EMPTY,
-            Checks.row(20, 20, 20, 20, 52, 68, 84, 100), Checks.row(0, 5, 10, 15, 1, 1, 1, 1))),
+            row(20, 20, 20, 20, 52, 68, 84, 100), row(0, 5, 10, 15, 1, 1, 1, 1))),
             "abcdfghiklmnpqrsbcdeghijlmnoqrst");
         made("the turn comes round", old, delta(window(source, 24, EMPTY,
-            Checks.row(20, 20, 20, 20, 20, 52), Checks.row(0, 5, 10, 15, 20, 1))), "abcdfghiklmnpqrsuvwxvwxy");
+            row(20, 20, 20, 20, 20, 52), row(0, 5, 10, 15, 20, 1))), "abcdfghiklmnpqrsuvwxvwxy");
         made("modes 6 .. 8 at a window's beginning", old,
-            delta(window(source, 12, EMPTY, Checks.row(116, 132, 148), Checks.row(7, 8, 9))), "abcdabcdabcd");
-        made("mode 6", old, delta(window(source, 8, EMPTY, Checks.row(20, 116), Checks.row(7, 7))), "hijkhijk");
-        made("rows are 0 in each window", old, delta(window(source, 8, EMPTY, Checks.row(20, 116), Checks.row(7, 7)),
-            window(source, 8, EMPTY, Checks.row(116, 52), Checks.row(7, 3))), "hijkhijkabcddefg");
-        made("the turn begins anew in each window", old, delta(window(source, 4, EMPTY, Checks.row(20), Checks.row(7)),
-            window(source, 8, EMPTY, Checks.row(20, 52), Checks.row(3, 1))), "hijkdefgefgh");
+            delta(window(source, 12, EMPTY, row(116, 132, 148), row(7, 8, 9))), "abcdabcdabcd");
+        made("mode 6", old, delta(window(source, 8, EMPTY, row(20, 116), row(7, 7))), "hijkhijk");
+        made("rows are 0 in each window", old, delta(window(source, 8, EMPTY, row(20, 116), row(7, 7)),
+            window(source, 8, EMPTY, row(116, 52), row(7, 3))), "hijkhijkabcddefg");
+        made("the turn begins anew in each window", old, delta(window(source, 4, EMPTY, row(20), row(7)),
+            window(source, 8, EMPTY, row(20, 52), row(3, 1))), "hijkdefgefgh");
         DeltaFerry x = new DeltaFerry();
-        int[] long300 = Checks.mixed(300, 3);
-        Checks.fill(x, 0, long300);
-        Checks.fill(x, 2, delta(window(Checks.row(1, 130, 44, 0), 8, EMPTY, Checks.row(20, 132), Checks.row(130, 14, 14))));
-        Checks.due("mode 7", x.decode(), 8);
+        int[] long300 = mixed(300, 3);
+        fill(x, 0, long300);
+        fill(x, 2, delta(window(row(1, 130, 44, 0), 8, EMPTY, row(20, 132), row(130, 14, 14))));
+        due("mode 7", x.decode(), 8);
         int[] four = java.util.Arrays.copyOfRange(long300, 270, 274);
-        Checks.dueFile("mode 7", x, 3, Checks.joined(four, four));
+        dueFile("mode 7", x, 3, joined(four, four));
     }
 
     private static void addressesRefused() {
-        int[] source = Checks.row(1, 8, 0);
+        int[] source = row(1, 8, 0);
         String old = "abcdefgh";
-        made("below HERE", old, delta(window(source, 4, EMPTY, Checks.row(20), Checks.row(7))), "hhhh");
-        refused("HERE", old, delta(window(source, 4, EMPTY, Checks.row(20), Checks.row(8))), BROKEN);
-        made("HERE less 1", old, delta(window(source, 4, EMPTY, Checks.row(36), Checks.row(1))), "hhhh");
-        refused("HERE less 0", old, delta(window(source, 4, EMPTY, Checks.row(36), Checks.row(0))), BROKEN);
-        refused("below 0", old, delta(window(source, 4, EMPTY, Checks.row(36), Checks.row(9))), BROKEN);
-        refused("far below 0", old, delta(window(source, 4, EMPTY, Checks.row(36), Checks.row(255, 255, 255, 127))), BROKEN);
-        refused("near, not below HERE", old, delta(window(source, 8, EMPTY, Checks.row(20, 52), Checks.row(7, 5))), BROKEN);
-        refused("HERE is 0", "", delta(window(Checks.row(0), 4, EMPTY, Checks.row(20), Checks.row(0))), BROKEN);
-        refused("HERE is 0", "", delta(window(Checks.row(0), 4, EMPTY, Checks.row(116), Checks.row(0))), BROKEN);
-        refused("no address", old, delta(window(source, 4, EMPTY, Checks.row(20), EMPTY)), BROKEN);
-        refused("no address", old, delta(window(source, 4, EMPTY, Checks.row(116), EMPTY)), BROKEN);
-        refused("an address that is left", old, delta(window(source, 4, EMPTY, Checks.row(20), Checks.row(1, 1))), BROKEN);
-        refused("half an address", old, delta(window(source, 4, EMPTY, Checks.row(20), Checks.row(128))), BROKEN);
+        made("below HERE", old, delta(window(source, 4, EMPTY, row(20), row(7))), "hhhh");
+        refused("HERE", old, delta(window(source, 4, EMPTY, row(20), row(8))), BROKEN);
+        made("HERE less 1", old, delta(window(source, 4, EMPTY, row(36), row(1))), "hhhh");
+        refused("HERE less 0", old, delta(window(source, 4, EMPTY, row(36), row(0))), BROKEN);
+        refused("below 0", old, delta(window(source, 4, EMPTY, row(36), row(9))), BROKEN);
+        refused("far below 0", old, delta(window(source, 4, EMPTY, row(36), row(255, 255, 255, 127))), BROKEN);
+        refused("near, not below HERE", old, delta(window(source, 8, EMPTY, row(20, 52), row(7, 5))), BROKEN);
+        refused("HERE is 0", "", delta(window(row(0), 4, EMPTY, row(20), row(0))), BROKEN);
+        refused("HERE is 0", "", delta(window(row(0), 4, EMPTY, row(116), row(0))), BROKEN);
+        refused("no address", old, delta(window(source, 4, EMPTY, row(20), EMPTY)), BROKEN);
+        refused("no address", old, delta(window(source, 4, EMPTY, row(116), EMPTY)), BROKEN);
+        refused("an address that is left", old, delta(window(source, 4, EMPTY, row(20), row(1, 1))), BROKEN);
+        refused("half an address", old, delta(window(source, 4, EMPTY, row(20), row(128))), BROKEN);
     }
 
     private static void sizesOfNothing() {
-        int[] source = Checks.row(1, 8, 0);
+        int[] source = row(1, 8, 0);
         String old = "abcdefgh";
-        made("ADD 0", "", delta(window(Checks.row(0), 1, Checks.row('a'), Checks.row(1, 0, 2, 1, 0), EMPTY)), "a");
-        made("RUN 0 has its byte", "", delta(window(Checks.row(0), 1, Checks.row('z', 'a'), Checks.row(0, 0, 2), EMPTY)), "a");
-        refused("RUN 0 without its byte", "", delta(window(Checks.row(0), 0, EMPTY, Checks.row(0, 0), EMPTY)), BROKEN);
-        made("COPY 0 has its address", old, delta(window(source, 4, EMPTY, Checks.row(19, 0, 52), Checks.row(3, 1))), "efgh");
-        refused("COPY 0 without its address", old, delta(window(source, 0, EMPTY, Checks.row(19, 0), EMPTY)), BROKEN);
-        refused("COPY 0 from HERE", old, delta(window(source, 0, EMPTY, Checks.row(19, 0), Checks.row(8))), BROKEN);
+        made("ADD 0", "", delta(window(row(0), 1, row('a'), row(1, 0, 2, 1, 0), EMPTY)), "a");
+        made("RUN 0 has its byte", "", delta(window(row(0), 1, row('z', 'a'), row(0, 0, 2), EMPTY)), "a");
+        refused("RUN 0 without its byte", "", delta(window(row(0), 0, EMPTY, row(0, 0), EMPTY)), BROKEN);
+        made("COPY 0 has its address", old, delta(window(source, 4, EMPTY, row(19, 0, 52), row(3, 1))), "efgh");
+        refused("COPY 0 without its address", old, delta(window(source, 0, EMPTY, row(19, 0), EMPTY)), BROKEN);
+        refused("COPY 0 from HERE", old, delta(window(source, 0, EMPTY, row(19, 0), row(8))), BROKEN);
     }
 
     private static void numbers() {
-        made("a number of four bytes", "", Checks.joined(HEAD, Checks.row(0, 128, 128, 128, 7, 1, 0, 1, 1, 0, 'a', 2)), "a");
+        made("a number of four bytes", "", joined(HEAD, row(0, 128, 128, 128, 7, 1, 0, 1, 1, 0, 'a', 2)), "a");
         refused("a number of five bytes", "",
-            Checks.joined(HEAD, Checks.row(0, 128, 128, 128, 128, 7, 1, 0, 1, 1, 0, 'a', 2)), BROKEN);
+            joined(HEAD, row(0, 128, 128, 128, 128, 7, 1, 0, 1, 1, 0, 'a', 2)), BROKEN);
         made("all numbers of two bytes", "",
-            Checks.joined(HEAD, Checks.row(0, 128, 11, 128, 1, 0, 128, 1, 128, 1, 128, 0, 'a', 2)), "a");
-        refused("a fourth byte with 128 and no more", "", Checks.joined(HEAD, Checks.row(0, 128, 128, 128, 128)), BROKEN);
+            joined(HEAD, row(0, 128, 11, 128, 1, 0, 128, 1, 128, 1, 128, 0, 'a', 2)), "a");
+        refused("a fourth byte with 128 and no more", "", joined(HEAD, row(0, 128, 128, 128, 128)), BROKEN);
         made("a size of four bytes", "",
-            delta(window(Checks.row(0), 2, Checks.row('a'), Checks.row(0, 128, 128, 128, 2), EMPTY)), "aa");
+            delta(window(row(0), 2, row('a'), row(0, 128, 128, 128, 2), EMPTY)), "aa");
         refused("a size of five bytes", "",
-            delta(window(Checks.row(0), 2, Checks.row('a'), Checks.row(0, 128, 128, 128, 128, 2), EMPTY)), BROKEN);
+            delta(window(row(0), 2, row('a'), row(0, 128, 128, 128, 128, 2), EMPTY)), BROKEN);
     }
 
     private static void windowBytes() {
-        int[] all = delta(window(Checks.row(1, 3, 0), 5, Checks.bytesOf("ab"), Checks.row(3, 19, 3), Checks.row(0)));
+        int[] all = delta(window(row(1, 3, 0), 5, bytesOf("ab"), row(3, 19, 3), row(0)));
         made("whole", "xyz", all, "abxyz");
         for (int n = 6; n < all.length; n++) {
             refused("cut to " + n, "xyz", java.util.Arrays.copyOf(all, n), BROKEN);
         }
-        refused("a byte left", "xyz", Checks.joined(all, Checks.row(0)), BROKEN);
-        refused("a window of no bytes", "", Checks.joined(HEAD, Checks.row(0, 0)), BROKEN);
-        refused("fewer bytes than the window has", "", Checks.joined(HEAD, Checks.row(0, 6, 1, 0, 1, 1, 0, 'a', 2)), BROKEN);
+        refused("a byte left", "xyz", joined(all, row(0)), BROKEN);
+        refused("a window of no bytes", "", joined(HEAD, row(0, 0)), BROKEN);
+        refused("fewer bytes than the window has", "", joined(HEAD, row(0, 6, 1, 0, 1, 1, 0, 'a', 2)), BROKEN);
         refused("more bytes than the window has", "",
-            Checks.joined(HEAD, Checks.row(0, 8, 1, 0, 1, 1, 0, 'a', 2, 2)), BROKEN);
-        refused("nothing is read beyond a window", "", Checks.joined(HEAD, Checks.row(0, 4, 1, 0, 1, 1, 0, 'a', 2)), BROKEN);
+            joined(HEAD, row(0, 8, 1, 0, 1, 1, 0, 'a', 2, 2)), BROKEN);
+        refused("nothing is read beyond a window", "", joined(HEAD, row(0, 4, 1, 0, 1, 1, 0, 'a', 2)), BROKEN);
         // The end is met before the size is read.
-        refused("BROKEN before LARGE", "", Checks.joined(HEAD, Checks.row(0, 9, 130, 46, 0, 0, 0, 0)), BROKEN);
+        refused("BROKEN before LARGE", "", joined(HEAD, row(0, 9, 130, 46, 0, 0, 0, 0)), BROKEN);
     }
 
     private static void parts() {
-        int[] none = Checks.row(0);
-        refused("the window is not filled", "", delta(window(none, 4, Checks.bytesOf("abc"), Checks.row(4), EMPTY)), BROKEN);
-        refused("the window is too small", "", delta(window(none, 2, Checks.bytesOf("abc"), Checks.row(4), EMPTY)), BROKEN);
-        refused("bytes left", "", delta(window(none, 3, Checks.bytesOf("abcd"), Checks.row(4), EMPTY)), BROKEN);
-        refused("bytes missing", "", delta(window(none, 3, Checks.bytesOf("ab"), Checks.row(4), EMPTY)), BROKEN);
-        refused("a run's byte missing", "", delta(window(none, 3, EMPTY, Checks.row(0, 3), EMPTY)), BROKEN);
-        refused("codes left", "", delta(window(none, 3, Checks.bytesOf("abcd"), Checks.row(4, 2), EMPTY)), BROKEN);
-        refused("a size missing", "", delta(window(none, 3, Checks.bytesOf("abc"), Checks.row(1), EMPTY)), BROKEN);
-        refused("a run too long", "", delta(window(none, 3, Checks.bytesOf("a"), Checks.row(0, 4), EMPTY)), BROKEN);
-        refused("a copy too long", "", delta(window(none, 5, Checks.bytesOf("a"), Checks.row(2, 21), Checks.row(0))), BROKEN);
+        int[] none = row(0);
+        refused("the window is not filled", "", delta(window(none, 4, bytesOf("abc"), row(4), EMPTY)), BROKEN);
+        refused("the window is too small", "", delta(window(none, 2, bytesOf("abc"), row(4), EMPTY)), BROKEN);
+        refused("bytes left", "", delta(window(none, 3, bytesOf("abcd"), row(4), EMPTY)), BROKEN);
+        refused("bytes missing", "", delta(window(none, 3, bytesOf("ab"), row(4), EMPTY)), BROKEN);
+        refused("a run's byte missing", "", delta(window(none, 3, EMPTY, row(0, 3), EMPTY)), BROKEN);
+        refused("codes left", "", delta(window(none, 3, bytesOf("abcd"), row(4, 2), EMPTY)), BROKEN);
+        refused("a size missing", "", delta(window(none, 3, bytesOf("abc"), row(1), EMPTY)), BROKEN);
+        refused("a run too long", "", delta(window(none, 3, bytesOf("a"), row(0, 4), EMPTY)), BROKEN);
+        refused("a copy too long", "", delta(window(none, 5, bytesOf("a"), row(2, 21), row(0))), BROKEN);
         refused("a great size", "",
-            delta(window(none, 3, Checks.bytesOf("abc"), Checks.row(0, 255, 255, 255, 127), EMPTY)), BROKEN);
-        refused("great parts", "", Checks.joined(HEAD,
-            Checks.row(0, 15, 1, 0, 255, 255, 255, 127, 255, 255, 255, 127, 255, 255, 255, 127, 2)), BROKEN);
+            delta(window(none, 3, bytesOf("abc"), row(0, 255, 255, 255, 127), EMPTY)), BROKEN);
+        refused("great parts", "", joined(HEAD,
+            row(0, 15, 1, 0, 255, 255, 255, 127, 255, 255, 255, 127, 255, 255, 255, 127, 2)), BROKEN);
     }
 
     private static void secondaries() {
         for (int second = 1; second < 256; second++) {
             refused("the byte behind the size " + second, "",
-                Checks.joined(HEAD, Checks.row(0, 7, 1, second, 1, 1, 0, 'a', 2)), second % 8 != 0 ? SECOND : BROKEN);
+                joined(HEAD, row(0, 7, 1, second, 1, 1, 0, 'a', 2)), second % 8 != 0 ? SECOND : BROKEN);
         }
-        refused("SECOND before the parts", "", Checks.joined(HEAD, Checks.row(0, 2, 1, 1)), SECOND);
-        refused("LARGE before SECOND", "", Checks.joined(HEAD, Checks.row(0, 4, 130, 46, 1, 0)), LARGE);
-        refused("a window before", "", delta(window(Checks.row(0), 3, EMPTY, Checks.row(4), EMPTY),
-            Checks.row(0, 2, 1, 1)), BROKEN);
+        refused("SECOND before the parts", "", joined(HEAD, row(0, 2, 1, 1)), SECOND);
+        refused("LARGE before SECOND", "", joined(HEAD, row(0, 4, 130, 46, 1, 0)), LARGE);
+        refused("a window before", "", delta(window(row(0), 3, EMPTY, row(4), EMPTY),
+            row(0, 2, 1, 1)), BROKEN);
     }
 
     private static void large() {
-        int[] run = Checks.row('a');
-        int[] most = window(Checks.row(0), 300, run, Checks.row(0, 130, 44), EMPTY);
+        int[] run = row('a');
+        int[] most = window(row(0), 300, run, row(0, 130, 44), EMPTY);
         made("300", "", delta(most), "a".repeat(300));
-        made("300 and 0", "", delta(most, window(Checks.row(0), 0, EMPTY, EMPTY, EMPTY)), "a".repeat(300));
-        refused("301", "", delta(window(Checks.row(0), 301, run, Checks.row(0, 130, 45), EMPTY)), LARGE);
-        refused("300 and 1", "", delta(most, window(Checks.row(0), 1, run, Checks.row(2), EMPTY)), LARGE);
-        refused("by the size alone", "", delta(window(Checks.row(0), 301, EMPTY, EMPTY, EMPTY)), LARGE);
-        refused("a great size", "", delta(window(Checks.row(0), 268435455, EMPTY, EMPTY, EMPTY)), LARGE);
-        refused("200 and 101", "", delta(window(Checks.row(0), 200, run, Checks.row(0, 129, 72), EMPTY),
-            window(Checks.row(0), 101, run, Checks.row(0, 101), EMPTY)), LARGE);
+        made("300 and 0", "", delta(most, window(row(0), 0, EMPTY, EMPTY, EMPTY)), "a".repeat(300));
+        refused("301", "", delta(window(row(0), 301, run, row(0, 130, 45), EMPTY)), LARGE);
+        refused("300 and 1", "", delta(most, window(row(0), 1, run, row(2), EMPTY)), LARGE);
+        refused("by the size alone", "", delta(window(row(0), 301, EMPTY, EMPTY, EMPTY)), LARGE);
+        refused("a great size", "", delta(window(row(0), 268435455, EMPTY, EMPTY, EMPTY)), LARGE);
+        refused("200 and 101", "", delta(window(row(0), 200, run, row(0, 129, 72), EMPTY),
+            window(row(0), 101, run, row(0, 101), EMPTY)), LARGE);
     }
 
     private static int[] checkedWindow(int last) {
-        return Checks.row(4, 13, 3, 0, 3, 1, 0, 2, 77, 1, last, 'a', 'b', 'c', 4);
+        return row(4, 13, 3, 0, 3, 1, 0, 2, 77, 1, last, 'a', 'b', 'c', 4);
     }
 
     private static void checks() {
@@ -276,30 +238,30 @@ public final class DecodeTest {
         int[] codes = checkedWindow(38);
         codes[14] = 3;
         refused("BROKEN before CHECK", "", delta(codes), BROKEN);
-        refused("CHECK before what is behind", "", delta(checkedWindow(38), Checks.row(8)), CHECK);
-        refused("what is before", "", delta(Checks.row(0, 2, 1, 1), checkedWindow(38)), SECOND);
-        made("with a source", "xy", delta(Checks.row(5, 2, 0), Checks.row(13, 3, 0, 3, 1, 0, 2, 77, 1, 39, 'a', 'b', 'c', 4)), "abc");
+        refused("CHECK before what is behind", "", delta(checkedWindow(38), row(8)), CHECK);
+        refused("what is before", "", delta(row(0, 2, 1, 1), checkedWindow(38)), SECOND);
+        made("with a source", "xy", delta(row(5, 2, 0), row(13, 3, 0, 3, 1, 0, 2, 77, 1, 39, 'a', 'b', 'c', 4)), "abc");
         made("each window's own", "", delta(checkedWindow(39), checkedWindow(39)), "abcabc");
-        refused("half a check", "", delta(Checks.row(4, 7, 0, 0, 0, 0, 0, 0, 0)), BROKEN);
-        made("the check of nothing", "", delta(Checks.row(4, 9, 0, 0, 0, 0, 0, 0, 0, 0, 1)), "");
+        refused("half a check", "", delta(row(4, 7, 0, 0, 0, 0, 0, 0, 0)), BROKEN);
+        made("the check of nothing", "", delta(row(4, 9, 0, 0, 0, 0, 0, 0, 0, 0, 1)), "");
     }
 
     private static void resultStays() {
         DeltaFerry x = read("made", "", delta(checkedWindow(39)), 3);
         int[][] wrong = {
-            delta(checkedWindow(38)), delta(checkedWindow(39), checkedWindow(38)), delta(Checks.row(8)), Checks.row(1),
-            delta(Checks.row(0, 2, 1, 1)), delta(window(Checks.row(0), 301, EMPTY, EMPTY, EMPTY)),
-            Checks.row(214, 195, 196, 0, 1), Checks.row(214, 195, 196, 0, 2, 2, 9, 0)
+            delta(checkedWindow(38)), delta(checkedWindow(39), checkedWindow(38)), delta(row(8)), row(1),
+            delta(row(0, 2, 1, 1)), delta(window(row(0), 301, EMPTY, EMPTY, EMPTY)),
+            row(214, 195, 196, 0, 1), row(214, 195, 196, 0, 2, 2, 9, 0)
         };
         int[] answers = {CHECK, CHECK, BROKEN, BROKEN, SECOND, LARGE, SECOND, TABLE};
         for (int i = 0; i < wrong.length; i++) {
-            Checks.fill(x, 2, wrong[i]);
-            Checks.due("wrong " + i, x.decode(), answers[i]);
-            Checks.dueFile("wrong " + i, x, 3, 'a', 'b', 'c');
+            fill(x, 2, wrong[i]);
+            due("wrong " + i, x.decode(), answers[i]);
+            dueFile("wrong " + i, x, 3, 'a', 'b', 'c');
         }
-        Checks.fill(x, 2, HEAD);
-        Checks.due("no window", x.decode(), 0);
-        Checks.dueFile("RESULT becomes empty", x, 3);
+        fill(x, 2, HEAD);
+        due("no window", x.decode(), 0);
+        dueFile("RESULT becomes empty", x, 3);
     }
 
     /** Each code of the table by itself, at the beginning of a window with a source. */
@@ -308,18 +270,18 @@ public final class DecodeTest {
         String old = "abcdefghijklmnopqrstuvwxyz";
         for (int code = 0; code < 256; code++) {
             List<Integer> u = new ArrayList<>();
-            for (int b : Checks.bytesOf(old)) {
+            for (int b : bytesOf(old)) {
                 u.add(b);
             }
             int[] data = EMPTY;
-            int[] told = Checks.row(code);
+            int[] told = row(code);
             int[] addresses = EMPTY;
             for (int k = 0; k < 2; k++) {
                 int type = codes[code][k];
                 int n = codes[code][2 + k];
                 if (type != 0 && n == 0) {
                     n = 3;
-                    told = Checks.joined(told, Checks.row(n));
+                    told = joined(told, row(n));
                 }
                 int mode = codes[code][4 + k];
                 // The rows are all 0: modes 2 .. 5 tell 5 as 5, modes 6 .. 8 tell 0 by any byte.
@@ -327,69 +289,43 @@ public final class DecodeTest {
                 for (int i = 0; i < n; i++) {
                     u.add(type == 3 ? u.get(from + i) : type == 1 ? '0' + i : '!');
                 }
-                int[] mine = type == 1 ? java.util.Arrays.copyOf(Checks.bytesOf("0123456789:;<=>?@"), n)
-                    : type == 2 ? Checks.row('!') : EMPTY;
-                data = Checks.joined(data, mine);
-                addresses = Checks.joined(addresses, type == 3 ? Checks.row(5) : EMPTY);
+                int[] mine = type == 1 ? java.util.Arrays.copyOf(bytesOf("0123456789:;<=>?@"), n)
+                    : type == 2 ? row('!') : EMPTY;
+                data = joined(data, mine);
+                addresses = joined(addresses, type == 3 ? row(5) : EMPTY);
             }
             StringBuilder result = new StringBuilder();
             for (int b : u.subList(old.length(), u.size())) {
                 result.append((char) b);
             }
             made("code " + code, old,
-                delta(window(Checks.row(1, 26, 0), result.length(), data, told, addresses)), result.toString());
+                delta(window(row(1, 26, 0), result.length(), data, told, addresses)), result.toString());
         }
-    }
-
-    private static int[] tableDelta(int... changes) {
-        int[] data = EMPTY;
-        int[] codes = EMPTY;
-        int[] addresses = EMPTY;
-        int place = 0;
-        for (int i = 0; i < changes.length; i += 2) {
-            if (changes[i] > place) {
-                codes = Checks.joined(codes, Checks.row(19), number(changes[i] - place));
-                addresses = Checks.joined(addresses, number(place));
-            }
-            codes = Checks.joined(codes, Checks.row(2));
-            data = Checks.joined(data, Checks.row(changes[i + 1]));
-            place = changes[i] + 1;
-        }
-        if (place < 1536) {
-            codes = Checks.joined(codes, Checks.row(19), number(1536 - place));
-            addresses = Checks.joined(addresses, number(place));
-        }
-        return delta(window(Checks.row(1, 140, 0, 0), 1536, data, codes, addresses));
-    }
-
-    private static int[] withTable(int near, int same, int[] table, int[]... windows) {
-        return Checks.joined(Checks.row(214, 195, 196, 0, 2), number(2 + table.length), Checks.row(near, same), table,
-            Checks.joined(windows));
     }
 
     private static void tables() {
         String old = "abcdefgh";
-        int[] copy = window(Checks.row(1, 8, 0), 4, EMPTY, Checks.row(20), Checks.row(2));
+        int[] copy = window(row(1, 8, 0), 4, EMPTY, row(20), row(2));
         made("THE TABLE", old, withTable(4, 3, tableDelta(), copy), "cdef");
         made("and no window", old, withTable(4, 3, tableDelta()), "");
-        int[] three = window(Checks.row(0), 3, Checks.bytesOf("xyz"), Checks.row(20), EMPTY);
+        int[] three = window(row(0), 3, bytesOf("xyz"), row(20), EMPTY);
         refused("code 20 is a COPY", old, withTable(4, 3, tableDelta(), three), BROKEN);
         made("code 20 becomes ADD 3", old, withTable(4, 3, tableDelta(20, 1, 512 + 20, 3), three), "xyz");
         made("code 20 becomes RUN, size told", old, withTable(4, 3, tableDelta(20, 2, 512 + 20, 0),
-            window(Checks.row(0), 5, Checks.row('q'), Checks.row(20, 5), EMPTY)), "qqqqq");
+            window(row(0), 5, row('q'), row(20, 5), EMPTY)), "qqqqq");
         made("code 20 becomes nothing", old, withTable(4, 3, tableDelta(20, 0),
-            window(Checks.row(0), 1, Checks.row('q'), Checks.row(20, 2, 20), EMPTY)), "q");
+            window(row(0), 1, row('q'), row(20, 2, 20), EMPTY)), "q");
         made("code 2 gets a second one, both sizes told", old,
             withTable(4, 3, tableDelta(2, 1, 256 + 2, 2, 512 + 2, 0, 768 + 2, 0),
-            window(Checks.row(0), 5, Checks.bytesOf("abq"), Checks.row(2, 2, 3), EMPTY)), "abqqq");
+            window(row(0), 5, bytesOf("abq"), row(2, 2, 3), EMPTY)), "abqqq");
         made("a second one alone", old, withTable(4, 3, tableDelta(20, 0, 256 + 20, 3, 768 + 20, 2, 1280 + 20, 1),
-            window(Checks.row(1, 8, 0), 2, EMPTY, Checks.row(20), Checks.row(3))), "fg");
+            window(row(1, 8, 0), 2, EMPTY, row(20), row(3))), "fg");
         made("a size of 255", old, withTable(4, 3, tableDelta(0, 2, 512, 255),
-            window(Checks.row(0), 255, Checks.row('q'), Checks.row(0), EMPTY)), "q".repeat(255));
+            window(row(0), 255, row('q'), row(0), EMPTY)), "q".repeat(255));
         DeltaFerry x = read("with a table", old, withTable(4, 3, tableDelta(20, 1, 512 + 20, 3), three), 3);
-        Checks.fill(x, 2, delta(copy));
-        Checks.due("the next delta has THE TABLE again", x.decode(), 4);
-        Checks.dueFile("the next delta", x, 3, 'c', 'd', 'e', 'f');
+        fill(x, 2, delta(copy));
+        due("the next delta has THE TABLE again", x.decode(), 4);
+        dueFile("the next delta", x, 3, 'c', 'd', 'e', 'f');
     }
 
     /** A table whose types are THE TABLE's modes, so that all modes that are not named are seen to be 0. */
@@ -398,59 +334,59 @@ public final class DecodeTest {
         int[][] ranges = {{1024, 19}, {1024 + 163, 84}, {1280, 163}, {1280 + 247, 9}};
         for (int[] range : ranges) {
             for (int i = range[0]; i < range[0] + range[1]; i++) {
-                Checks.due("the model's mode " + i, standard.get(i), 0);
+                due("the model's mode " + i, standard.get(i), 0);
             }
-            int[] table = delta(window(Checks.row(1, 140, 0, 0), 1536, EMPTY,
-                Checks.joined(Checks.row(19), number(range[1]), Checks.row(19), number(256 - range[1]),
-                    Checks.row(19), number(1280)),
-                Checks.joined(number(range[0]), number(range[1]), number(256))));
+            int[] table = delta(window(row(1, 140, 0, 0), 1536, EMPTY,
+                joined(row(19), number(range[1]), row(19), number(256 - range[1]),
+                    row(19), number(1280)),
+                joined(number(range[0]), number(range[1]), number(256))));
             int[] codes = new int[Math.min(range[1], 163)];
             for (int i = 0; i < codes.length; i++) {
                 codes[i] = i;
             }
-            made("modes that are not named", "", withTable(4, 3, table, window(Checks.row(0), 0, EMPTY, codes, EMPTY)), "");
+            made("modes that are not named", "", withTable(4, 3, table, window(row(0), 0, EMPTY, codes, EMPTY)), "");
         }
     }
 
     private static void tableRows() {
         String old = "abcdefghijklmnop";
-        int[] source = Checks.row(1, 16, 0);
+        int[] source = row(1, 16, 0);
         made("NEAR 1, SAME 0: mode 2 is near", old, withTable(1, 0, tableDelta(),
-            window(source, 12, EMPTY, Checks.row(20, 20, 52), Checks.row(3, 5, 1))), "defgfghighij");
+            window(source, 12, EMPTY, row(20, 20, 52), row(3, 5, 1))), "defgfghighij");
         refused("NEAR 1, SAME 0: no mode 3", old, withTable(1, 0, tableDelta(),
-            window(source, 4, EMPTY, Checks.row(68), Checks.row(1))), BROKEN);
+            window(source, 4, EMPTY, row(68), row(1))), BROKEN);
         made("NEAR 0, SAME 1: mode 2 is same", old, withTable(0, 1, tableDelta(),
-            window(source, 8, EMPTY, Checks.row(20, 52), Checks.row(3, 3))), "defgdefg");
+            window(source, 8, EMPTY, row(20, 52), row(3, 3))), "defgdefg");
         refused("NEAR 0, SAME 1: no mode 3", old, withTable(0, 1, tableDelta(),
-            window(source, 4, EMPTY, Checks.row(68), Checks.row(1))), BROKEN);
+            window(source, 4, EMPTY, row(68), row(1))), BROKEN);
         made("NEAR 0, SAME 0", old, withTable(0, 0, tableDelta(),
-            window(source, 8, EMPTY, Checks.row(20, 36), Checks.row(3, 5))), "defgpdef");
+            window(source, 8, EMPTY, row(20, 36), row(3, 5))), "defgpdef");
         refused("NEAR 0, SAME 0: no mode 2", old, withTable(0, 0, tableDelta(),
-            window(source, 4, EMPTY, Checks.row(52), Checks.row(1))), BROKEN);
+            window(source, 4, EMPTY, row(52), row(1))), BROKEN);
         made("NEAR 8, SAME 4: mode 8 is near, 13 is same", old, withTable(8, 4, tableDelta(1024 + 20, 13),
-            window(source, 8, EMPTY, Checks.row(148, 20), Checks.row(2, 9))), "cdefabcd");
+            window(source, 8, EMPTY, row(148, 20), row(2, 9))), "cdefabcd");
         refused("NEAR 8, SAME 4: no mode 14", old, withTable(8, 4, tableDelta(1024 + 20, 14),
-            window(source, 4, EMPTY, Checks.row(20), Checks.row(2))), BROKEN);
+            window(source, 4, EMPTY, row(20), row(2))), BROKEN);
         made("a mode that there is not, not used", old, withTable(8, 4, tableDelta(1024 + 2, 255, 1024 + 20, 255),
-            window(Checks.row(0), 1, Checks.row('q'), Checks.row(2), EMPTY)), "q");
-        int[] tail = Checks.mixed(300, 3);
+            window(row(0), 1, row('q'), row(2), EMPTY)), "q");
+        int[] tail = mixed(300, 3);
         DeltaFerry x = new DeltaFerry();
-        Checks.fill(x, 0, tail);
-        Checks.fill(x, 2, withTable(4, 1, tableDelta(),
-            window(Checks.row(1, 130, 44, 0), 8, EMPTY, Checks.row(20, 116), Checks.row(130, 10, 10))));
-        Checks.due("SAME 1: remainders by 256", x.decode(), 8);
+        fill(x, 0, tail);
+        fill(x, 2, withTable(4, 1, tableDelta(),
+            window(row(1, 130, 44, 0), 8, EMPTY, row(20, 116), row(130, 10, 10))));
+        due("SAME 1: remainders by 256", x.decode(), 8);
         int[] four = java.util.Arrays.copyOfRange(tail, 266, 270);
-        Checks.dueFile("SAME 1: remainders by 256", x, 3, Checks.joined(four, four));
-        made("a table's delta has 4 and 3", old, withTable(0, 0, delta(window(Checks.row(1, 140, 0, 0), 1536, EMPTY,
-            Checks.row(19, 132, 0, 51, 136, 0), Checks.row(0, 132, 0))), window(source, 4, EMPTY, Checks.row(20), Checks.row(1))), "bcde");
+        dueFile("SAME 1: remainders by 256", x, 3, joined(four, four));
+        made("a table's delta has 4 and 3", old, withTable(0, 0, delta(window(row(1, 140, 0, 0), 1536, EMPTY,
+            row(19, 132, 0, 51, 136, 0), row(0, 132, 0))), window(source, 4, EMPTY, row(20), row(1))), "bcde");
         made("a table's delta of two windows, the second from the first", old, withTable(4, 3,
-            delta(window(Checks.row(1, 140, 0, 0), 1280, EMPTY, Checks.row(19, 138, 0), Checks.row(0)),
-            window(Checks.row(2, 2, 0), 256, Checks.row(0), Checks.row(0, 130, 0), EMPTY)),
-            window(source, 4, EMPTY, Checks.row(20), Checks.row(1))), "bcde");
+            delta(window(row(1, 140, 0, 0), 1280, EMPTY, row(19, 138, 0), row(0)),
+            window(row(2, 2, 0), 256, row(0), row(0, 130, 0), EMPTY)),
+            window(source, 4, EMPTY, row(20), row(1))), "bcde");
     }
 
     private static void tablesRefused() {
-        int[] copy = window(Checks.row(1, 8, 0), 4, EMPTY, Checks.row(20), Checks.row(2));
+        int[] copy = window(row(1, 8, 0), 4, EMPTY, row(20), row(2));
         String old = "abcdefgh";
         made("NEAR 8, SAME 4", old, withTable(8, 4, tableDelta(), copy), "cdef");
         refused("NEAR 9", old, withTable(9, 3, tableDelta(), copy), TABLE);
@@ -461,9 +397,9 @@ public final class DecodeTest {
         made("a first size 4", old, withTable(4, 3, tableDelta(512, 4), copy), "cdef");
         refused("no bytes made", old, withTable(4, 3, HEAD, copy), TABLE);
         refused("1535 bytes made", old, withTable(4, 3,
-            delta(window(Checks.row(1, 140, 0, 0), 1535, EMPTY, Checks.row(19, 139, 127), Checks.row(0))), copy), TABLE);
+            delta(window(row(1, 140, 0, 0), 1535, EMPTY, row(19, 139, 127), row(0))), copy), TABLE);
         refused("1537 bytes", old, withTable(4, 3,
-            delta(window(Checks.row(1, 140, 0, 0), 1537, EMPTY, Checks.row(19, 140, 1), Checks.row(0))), copy), TABLE);
+            delta(window(row(1, 140, 0, 0), 1537, EMPTY, row(19, 140, 1), row(0))), copy), TABLE);
         refused("its fifth byte 2", old, withTable(4, 3, withTable(4, 3, tableDelta(), tableDelta()), copy), TABLE);
         int[] second = tableDelta();
         second[4] = 1;
@@ -472,20 +408,20 @@ public final class DecodeTest {
         broken[0] = 0;
         refused("its first byte", old, withTable(4, 3, broken, copy), TABLE);
         refused("its OLD is THE TABLE", old, withTable(4, 3,
-            delta(window(Checks.row(1, 140, 1, 0), 1536, EMPTY, Checks.row(19, 140, 0), Checks.row(0))), copy), TABLE);
-        refused("TABLE before what is behind", old, withTable(9, 3, tableDelta(), Checks.row(8)), TABLE);
-        refused("what is behind", old, withTable(4, 3, tableDelta(), Checks.row(8)), BROKEN);
+            delta(window(row(1, 140, 1, 0), 1536, EMPTY, row(19, 140, 0), row(0))), copy), TABLE);
+        refused("TABLE before what is behind", old, withTable(9, 3, tableDelta(), row(8)), TABLE);
+        refused("what is behind", old, withTable(4, 3, tableDelta(), row(8)), BROKEN);
     }
 
     private static void tableSizes() {
-        int[] head = Checks.row(214, 195, 196, 0, 2);
+        int[] head = row(214, 195, 196, 0, 2);
         refused("no size", "", head, BROKEN);
-        refused("size 0", "", Checks.joined(head, Checks.row(0, 4, 3)), BROKEN);
-        refused("size 1", "", Checks.joined(head, Checks.row(1, 4, 3)), BROKEN);
-        refused("size 2", "", Checks.joined(head, Checks.row(2, 4, 3)), TABLE);
-        refused("size 2 of 1", "", Checks.joined(head, Checks.row(2, 4)), BROKEN);
-        refused("a size beyond the bytes", "", Checks.joined(head, Checks.row(3, 9, 9)), BROKEN);
-        refused("a size of five bytes", "", Checks.joined(head, Checks.row(128, 128, 128, 128, 2, 4, 3)), BROKEN);
+        refused("size 0", "", joined(head, row(0, 4, 3)), BROKEN);
+        refused("size 1", "", joined(head, row(1, 4, 3)), BROKEN);
+        refused("size 2", "", joined(head, row(2, 4, 3)), TABLE);
+        refused("size 2 of 1", "", joined(head, row(2, 4)), BROKEN);
+        refused("a size beyond the bytes", "", joined(head, row(3, 9, 9)), BROKEN);
+        refused("a size of five bytes", "", joined(head, row(128, 128, 128, 128, 2, 4, 3)), BROKEN);
         int[] table = tableDelta();
         int[] all = withTable(4, 3, table);
         int[] less = all.clone();
@@ -494,6 +430,6 @@ public final class DecodeTest {
         int[] more = all.clone();
         more[5]++;
         refused("a size of one more than there are", "", more, BROKEN);
-        refused("a size of one more", "", Checks.joined(more, Checks.row(0)), TABLE);
+        refused("a size of one more", "", joined(more, row(0)), TABLE);
     }
 }

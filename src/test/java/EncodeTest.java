@@ -1,5 +1,5 @@
 /** Promise 14: encode. */
-public final class EncodeTest {
+public final class EncodeTest extends Deltas {
     public static void main(String[] args) {
         nothing();
         additions();
@@ -9,29 +9,29 @@ public final class EncodeTest {
         sizes();
         windows();
         allThatIsWrittenIsRead();
-        Checks.finish("EncodeTest");
+        finish("EncodeTest");
     }
 
     private static void dueDelta(String what, DeltaFerry x, boolean checked, int... behind) {
-        int[] all = Checks.joined(Checks.row(214, 195, 196, 0, 0), behind);
-        Checks.due(what, x.encode(checked), all.length);
-        Checks.dueFile(what, x, 2, all);
+        int[] all = joined(row(214, 195, 196, 0, 0), behind);
+        due(what, x.encode(checked), all.length);
+        dueFile(what, x, 2, all);
     }
 
     private static DeltaFerry differed(String old, String fresh) {
         DeltaFerry x = new DeltaFerry();
-        Checks.fill(x, 0, old);
-        Checks.fill(x, 1, fresh);
+        fill(x, 0, old);
+        fill(x, 1, fresh);
         x.differ(16, 256);
         return x;
     }
 
     private static void nothing() {
         DeltaFerry x = new DeltaFerry();
-        Checks.fill(x, 2, 1, 2, 3);
-        Checks.due("no plan", x.encode(true), DeltaFerry.NONE);
-        Checks.dueFile("no plan leaves DELTA", x, 2, 1, 2, 3);
-        Checks.fill(x, 0, "abcd");
+        fill(x, 2, 1, 2, 3);
+        due("no plan", x.encode(true), NONE);
+        dueFile("no plan leaves DELTA", x, 2, 1, 2, 3);
+        fill(x, 0, "abcd");
         x.differ(1, 16);
         dueDelta("no window", x, true);
     }
@@ -52,7 +52,7 @@ public final class EncodeTest {
     private static void runs() {
         DeltaFerry x = differed("", "zzzzz");
         dueDelta("a run", x, false, 0, 8, 5, 0, 1, 2, 0, 122, 0, 5);
-        Checks.fill(x, 1, Checks.joined(Checks.row(9), Checks.times(200, 8)));
+        fill(x, 1, joined(row(9), times(200, 8)));
         x.differ(1, 256);
         dueDelta("a long run", x, false, 0, 12, 129, 73, 0, 2, 4, 0, 9, 8, 2, 0, 129, 72);
     }
@@ -63,33 +63,33 @@ public final class EncodeTest {
 
     private static void modes() {
         DeltaFerry x = new DeltaFerry();
-        int[] old = Checks.mixed(300, 9);
-        Checks.fill(x, 0, old);
-        Checks.fill(x, 1, Checks.joined(
+        int[] old = mixed(300, 9);
+        fill(x, 0, old);
+        fill(x, 1, joined(
             block(old, 12), block(old, 20), block(old, 12), block(old, 260), block(old, 260), block(old, 0)));
         x.sign(4);
-        Checks.due("scan", x.scan(64), 6);
+        due("scan", x.scan(64), 6);
         dueDelta("modes 0, 2, 6, 1, 7, 6", x, false, 1, 130, 44, 0, 17, 24, 0, 0, 6, 6,
             20, 52, 116, 36, 132, 116, 12, 8, 12, 52, 4, 0);
         // The first row's turn comes round: its first address is the fifth one then, which is nearest.
-        Checks.fill(x, 1, Checks.joined(
+        fill(x, 1, joined(
             block(old, 100), block(old, 60), block(old, 40), block(old, 20), block(old, 104), block(old, 128)));
-        Checks.due("scan", x.scan(64), 6);
+        due("scan", x.scan(64), 6);
         dueDelta("turns", x, false, 1, 130, 44, 0, 17, 24, 0, 0, 6, 6, 20, 20, 20, 20, 52, 52, 100, 60, 40, 20, 4, 24);
         // In the second row, a byte of 128 or more is one byte.
-        Checks.fill(x, 1, Checks.joined(block(old, 152), block(old, 152)));
-        Checks.due("scan", x.scan(64), 2);
+        fill(x, 1, joined(block(old, 152), block(old, 152)));
+        due("scan", x.scan(64), 2);
         dueDelta("a byte", x, false, 1, 130, 44, 0, 10, 8, 0, 0, 2, 3, 36, 116, 129, 20, 152);
         // The last of the first row is nearest; behind bytes there is a code for both.
-        Checks.fill(x, 1, Checks.joined(block(old, 12), block(old, 40), block(old, 60), block(old, 80),
-            Checks.row(1, 2, 3, 4), block(old, 84), Checks.row(5, 6, 7, 8), block(old, 260), Checks.row(9, 9),
-            block(old, 260), Checks.row(1, 2, 3, 4), block(old, 260)));
-        Checks.due("scan", x.scan(64), 12);
+        fill(x, 1, joined(block(old, 12), block(old, 40), block(old, 60), block(old, 80),
+            row(1, 2, 3, 4), block(old, 84), row(5, 6, 7, 8), block(old, 260), row(9, 9),
+            block(old, 260), row(1, 2, 3, 4), block(old, 260)));
+        due("scan", x.scan(64), 12);
         dueDelta("modes 5 and 7", x, false, 1, 130, 44, 0, 35, 46, 0, 14, 8, 8, 1, 2, 3, 4, 5, 6, 7, 8, 9, 9, 1, 2, 3, 4,
             20, 52, 68, 84, 232, 184, 240, 242, 12, 28, 20, 20, 4, 68, 4, 4);
         // Modes with the same number: the least one.
-        Checks.fill(x, 0, Checks.mixed(8, 9));
-        Checks.fill(x, 1, java.util.Arrays.copyOfRange(Checks.mixed(8, 9), 4, 8));
+        fill(x, 0, mixed(8, 9));
+        fill(x, 1, java.util.Arrays.copyOfRange(mixed(8, 9), 4, 8));
         x.sign(4);
         x.scan(64);
         dueDelta("4 is told by mode 0", x, false, 1, 8, 0, 7, 4, 0, 0, 1, 1, 20, 4);
@@ -117,50 +117,50 @@ public final class EncodeTest {
     }
 
     private static void sizes() {
-        int[] old = Checks.mixed(60, 5);
+        int[] old = mixed(60, 5);
         DeltaFerry x = new DeltaFerry();
-        Checks.fill(x, 0, old);
+        fill(x, 0, old);
         int[][] copies = {{18, 34}, {19, 19}, {20, 19}};
         for (int[] pair : copies) {
             int n = pair[0];
-            Checks.fill(x, 1, java.util.Arrays.copyOfRange(old, 3, 3 + n));
+            fill(x, 1, java.util.Arrays.copyOfRange(old, 3, 3 + n));
             x.differ(1, 64);
-            int[] code = n <= 18 ? Checks.row(pair[1]) : Checks.row(pair[1], n);
-            dueDelta("COPY " + n, x, false, Checks.joined(
-                Checks.row(1, 60, 0, 6 + code.length, n, 0, 0, code.length, 1), code, Checks.row(3)));
+            int[] code = n <= 18 ? row(pair[1]) : row(pair[1], n);
+            dueDelta("COPY " + n, x, false, joined(
+                row(1, 60, 0, 6 + code.length, n, 0, 0, code.length, 1), code, row(3)));
         }
         for (int n = 17; n <= 18; n++) {
-            int[] bytes = Checks.mixed(n, 6);
-            Checks.fill(x, 1, bytes);
+            int[] bytes = mixed(n, 6);
+            fill(x, 1, bytes);
             x.differ(1, 64);
-            int[] code = n <= 17 ? Checks.row(18) : Checks.row(1, n);
-            dueDelta("ADD " + n, x, false, Checks.joined(
-                Checks.row(1, 60, 0, 5 + n + code.length, n, 0, n, code.length, 0), bytes, code));
+            int[] code = n <= 17 ? row(18) : row(1, n);
+            dueDelta("ADD " + n, x, false, joined(
+                row(1, 60, 0, 5 + n + code.length, n, 0, n, code.length, 0), bytes, code));
         }
-        int[] many = Checks.mixed(130, 7);
-        Checks.fill(x, 1, many);
+        int[] many = mixed(130, 7);
+        fill(x, 1, many);
         x.differ(1, 256);
-        dueDelta("numbers of two bytes", x, false, Checks.joined(
-            Checks.row(1, 60, 0, 129, 12, 129, 2, 0, 129, 2, 3, 0), many, Checks.row(1, 129, 2)));
+        dueDelta("numbers of two bytes", x, false, joined(
+            row(1, 60, 0, 129, 12, 129, 2, 0, 129, 2, 3, 0), many, row(1, 129, 2)));
     }
 
     private static void windows() {
         DeltaFerry x = new DeltaFerry();
-        int[] old = Checks.mixed(20, 8);
-        Checks.fill(x, 0, old);
-        Checks.fill(x, 1, old);
+        int[] old = mixed(20, 8);
+        fill(x, 0, old);
+        fill(x, 1, old);
         x.sign(10);
-        Checks.due("scan", x.scan(17), 2);
+        due("scan", x.scan(17), 2);
         dueDelta("a copy of 3 in a window of its own", x, false,
             1, 20, 0, 7, 17, 0, 0, 1, 1, 129, 0, 1, 20, 0, 8, 3, 0, 0, 2, 1, 35, 3, 3);
-        Checks.fill(x, 0, "abcd");
-        Checks.fill(x, 1, "efghijklmnopqrs!abcd?");
-        Checks.due("differ", x.differ(1, 16), 3);
-        dueDelta("no code for two windows", x, false, Checks.joined(
-            Checks.row(1, 4, 0, 22, 16, 0, 16, 1, 0), Checks.bytesOf("efghijklmnopqrs!"), Checks.row(17),
-            Checks.row(1, 4, 0, 8, 5, 0, 1, 1, 1, '?', 253, 0)));
-        Checks.fill(x, 1, "aaaabbbbccccdd!!abcd?");
-        Checks.due("differ", x.differ(1, 16), 6);
+        fill(x, 0, "abcd");
+        fill(x, 1, "efghijklmnopqrs!abcd?");
+        due("differ", x.differ(1, 16), 3);
+        dueDelta("no code for two windows", x, false, joined(
+            row(1, 4, 0, 22, 16, 0, 16, 1, 0), bytesOf("efghijklmnopqrs!"), row(17),
+            row(1, 4, 0, 8, 5, 0, 1, 1, 1, '?', 253, 0)));
+        fill(x, 1, "aaaabbbbccccdd!!abcd?");
+        due("differ", x.differ(1, 16), 6);
         dueDelta("no code for two windows", x, false, 1, 4, 0, 19, 16, 0, 7, 7, 0, 'a', 'b', 'c', 'd', 'd', '!', '!',
             0, 4, 0, 4, 0, 4, 5, 1, 4, 0, 8, 5, 0, 1, 1, 1, '?', 253, 0);
     }
@@ -168,15 +168,15 @@ public final class EncodeTest {
     private static void allThatIsWrittenIsRead() {
         for (int seed = 0; seed < 40; seed++) {
             DeltaFerry x = new DeltaFerry();
-            int[] old = Checks.mixed(100 + 5 * seed, seed);
-            int[] fresh = Checks.joined(java.util.Arrays.copyOfRange(old, seed, 90), Checks.times(seed, 3),
-                Checks.mixed(20, seed + 50), java.util.Arrays.copyOfRange(old, 10, 60));
-            Checks.fill(x, 0, old);
-            Checks.fill(x, 1, fresh);
+            int[] old = mixed(100 + 5 * seed, seed);
+            int[] fresh = joined(java.util.Arrays.copyOfRange(old, seed, 90), times(seed, 3),
+                mixed(20, seed + 50), java.util.Arrays.copyOfRange(old, 10, 60));
+            fill(x, 0, old);
+            fill(x, 1, fresh);
             x.differ(1 + seed % 16, 16 + 6 * seed);
             x.encode(seed % 2 == 0);
-            Checks.due("decode", x.decode(), fresh.length);
-            Checks.dueFile("decode", x, 3, fresh);
+            due("decode", x.decode(), fresh.length);
+            dueFile("decode", x, 3, fresh);
         }
     }
 }

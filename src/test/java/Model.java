@@ -117,10 +117,11 @@ final class Model {
     }
 
     long digest(int file, int half) {
-        if (file < 0 || file > 3) {
-            return 0;
-        }
-        byte[] all = md5(files.get(file));
+        return file < 0 || file > 3 ? 0 : half(files.get(file), half);
+    }
+
+    static long half(List<Integer> row, int half) {
+        byte[] all = md5(row);
         long value = 0;
         for (int i = 0; i < 8; i++) {
             value = (value << 8) + (all[(half == 0 ? 0 : 8) + i] & 0xff);

@@ -6,6 +6,7 @@ import java.util.TreeMap;
 /** Long runs of calls, by fixed seeds, that the program and the model must answer alike (promises 1 to 17). */
 public final class ModelRunsTest {
     private final Random random;
+    private static final int MOST_CALLS = 512;
     private final DeltaFerry ferry = new DeltaFerry();
     private final Model model = new Model();
     private final String run;
@@ -22,7 +23,7 @@ public final class ModelRunsTest {
         for (int seed = 0; seed < 600 * factor && Checks.wrong() == 0; seed++) {
             new ModelRunsTest(seed).anyCalls();
         }
-        for (int seed = 0; seed < 600 * factor && Checks.wrong() == 0; seed++) {
+        for (int seed = 0; seed < 1000 * factor && Checks.wrong() == 0; seed++) {
             new ModelRunsTest(1_000_000 + seed).plans();
         }
         for (int seed = 0; seed < 3000 * factor && Checks.wrong() == 0; seed++) {
@@ -109,10 +110,9 @@ public final class ModelRunsTest {
 
     private void wholePlan() {
         int n = model.plan == null ? 0 : model.plan.size();
-        for (int i = 0; i <= n; i++) {
+        for (int i = 0; i <= n && calls < MOST_CALLS - 20; i++) {
             for (int what = 0; what < 4; what++) {
-                Checks.due(run + ": instruction " + i + " " + what,
-                    ferry.instruction(i, what), model.instruction(i, what));
+                due("instruction " + i + " " + what, ferry.instruction(i, what), model.instruction(i, what));
             }
         }
     }
@@ -263,7 +263,7 @@ public final class ModelRunsTest {
         int[] old = someBytes(below(301));
         fill(0, old);
         fill(1, oneIn(4) ? someBytes(below(301)) : likeThose(old, below(301)));
-        for (int k = 0; k < 8; k++) {
+        for (int k = 0; k < 8 && calls < MOST_CALLS - 25; k++) {
             int window = 16 + below(oneIn(2) ? 16 : 241);
             if (oneIn(2)) {
                 int block = 4 + below(oneIn(3) ? 61 : 8);
