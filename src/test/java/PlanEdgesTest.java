@@ -550,9 +550,14 @@ public final class PlanEdgesTest extends Deltas {
         duePlanOf("below address 0", "", "abcdQabcdR", add(5, 0), copy(4, 0, 0), add(1, 0));
         duePlanOf("below address 0", "z", "abcdzzabcdR", add(5, 0), copy(5, 0, 0), add(1, 0));
         duePlanOf("what is run", "z", "abcdzzzzabcdR", add(4, 0), run(4, 0), copy(4, 1, 0), add(1, 0));
+        duePlanOf("what is run, behind what is added", "yz", "abcdyyyyzabcdR",
+            add(4, 0), run(4, 0), copy(5, 1, 0), add(1, 0));
         DeltaFerry x = with("z", "abcdefgz!efgzabcdR");
         x.differ(16, 32);
         duePlan("what is copied", x, add(9, 0), copy(4, 5, 0), copy(4, 1, 0), add(1, 0));
+        x = with("yz", "abcdefgy!efgyzabcdR");
+        x.differ(16, 32);
+        duePlan("what is copied, behind what is added", x, add(9, 0), copy(4, 6, 0), copy(5, 1, 0), add(1, 0));
     }
 
     // Terms: "For each window by itself".

@@ -8,6 +8,7 @@ public final class ReadEdgesTest extends Deltas {
         fifthByte();
         deltaOfNoWindow();
         windowByte();
+        windowByteOfOtherBits();
         sourceOfOld();
         sourceOfTheResult();
         sourceOfAnOlderResult();
@@ -119,25 +120,28 @@ public final class ReadEdgesTest extends Deltas {
         dueFile("a delta of no window", x, 3);
     }
 
-    // "a byte, 1 ..., and 4 more when checked"; "2 instead of 1"; refused: "other bits, both 1 and 2 for a window".
+    // "a byte, 1 ..., and 4 more when checked"; "2 instead of 1".
     private static void windowByte() {
+        for (int kind : row(0, 1, 2, 4, 5, 6)) {
+            made("a window's byte " + kind, TEXT,
+                delta(addition(TEXT), windowOf(kind, kind % 4 != 0, kind >= 4)), TEXT + "xyzzzcdef");
+        }
+    }
+
+    // Refused: "other bits, both 1 and 2 for a window", though OLD and the RESULT have such a source.
+    private static void windowByteOfOtherBits() {
         for (int kind = 0; kind < 256; kind++) {
-            Fields f = new Fields();
-            f.kind = kind;
-            boolean fromResult = (kind & 3) == 2;
-            f.check = (kind & 4) != 0 ? told(check(bytesOf("xyzzzcdef"))) : EMPTY;
-            if ((kind & 3) == 0) {
-                f.data = bytesOf("xyzzzcdef");
-                f.codes = row(10);
-                f.addresses = EMPTY;
-            }
-            int[] all = fromResult ? delta(addition(TEXT), f.bytes()) : delta(f.bytes());
-            if (kind > 7 || (kind & 3) == 3) {
-                refused("a window's byte " + kind, TEXT, all, BROKEN);
-            } else {
-                made("a window's byte " + kind, TEXT, all, fromResult ? TEXT + "xyzzzcdef" : "xyzzzcdef");
+            for (int way = 0; way < 4 && (kind > 7 || kind % 4 == 3); way++) {
+                refused("a window's byte " + kind, TEXT,
+                    delta(addition(TEXT), windowOf(kind, way % 2 == 0, way >= 2)), BROKEN);
             }
         }
+    }
+
+    private static int[] windowOf(int kind, boolean withSource, boolean checked) {
+        int[] check = checked ? told(check(bytesOf("xyzzzcdef"))) : EMPTY;
+        return withSource ? window(row(kind, 8, 0), 9, check, bytesOf("xyz"), row(3, 0, 3, 20), row(2))
+            : window(row(kind), 9, check, bytesOf("xyzzzcdef"), row(10), EMPTY);
     }
 
     // "as many bytes as the first number says, from the place that the second number says ... (with 1: of OLD)".
