@@ -249,6 +249,13 @@ public final class ReadEdgesTest extends Deltas {
             dueFields("a fourth byte with 128, " + which, withNumber(which, row(128, 128, 128, 128 + value)), BROKEN);
             dueFields("a fourth byte 255, " + which, withNumber(which, row(255, 255, 255, 255)), BROKEN);
         }
+        // All would fit if such a number were one less than 0.
+        int[] zeros = row(128, 128, 128, 0, 128, 128, 128, 0, 128, 128, 128, 0, 128, 128, 128, 0, 128, 128, 0);
+        int[] data = joined(row(0, 0, 128, 128, 128, 128, 10, 19), row(0, 19, 0, 19, 0, 19, 0, 19, 0), zeros);
+        refused("a part of bytes", TEXT, delta(joined(row(1, 8, 0), number(data.length), data)), BROKEN);
+        int[] addresses = row(1, 0, 1, 2, 128, 128, 128, 128, 'a', 1);
+        refused("a part of addresses", TEXT, delta(joined(row(0), number(addresses.length), addresses),
+            window(row(1, 8, 0), 4, EMPTY, row(20), row(0))), BROKEN);
     }
 
     private static void numbersThatAreCut() {
